@@ -1052,14 +1052,12 @@ public final class ObjectHouse {
 
         Words() {
             int from = 0;
-            int used = 0;
             byte[] known = new byte[KNOWN_WORDS.length()];
             for (int i = 0; i < known.length; i++) {
                 known[i] = (byte) KNOWN_WORDS.charAt(i);
                 if (known[i] == ' ') {
                     intern(known, from, i - from);
                     from = i + 1;
-                    used++;
                 }
             }
         }
@@ -1139,7 +1137,7 @@ public final class ObjectHouse {
         }
 
         int positionOf(int token) {
-            return at[token];
+            return token < 0 || token >= tokens ? end : at[token];
         }
 
         long valueOf(int token) {
@@ -1151,7 +1149,7 @@ public final class ObjectHouse {
         }
 
         boolean isTypeAt(int token) {
-            int word = kindAt(token);
+            int word = token < tokens ? kind[token] : T_END;
             return word == T_NAME || word >= K_BOOLEAN && word <= K_DOUBLE;
         }
 
@@ -1434,8 +1432,9 @@ public final class ObjectHouse {
                 if (a == b || b == OBJECT && a >= OBJECT) {
                     return true;
                 }
-                if (isClass(a) && isClass(b)) {
-                    return (above[a] & bit(b)) != 0L;
+                int end = FIRST_CLASS + classes;
+                if (a >= FIRST_CLASS && a < end && b >= FIRST_CLASS && b < end) {
+                    return (above[a] >>> b - FIRST_CLASS & 1L) != 0L;
                 }
                 if (sort[a] != IS_ARRAY || sort[b] != IS_ARRAY || element[a] < OBJECT || element[b] < OBJECT) {
                     return false;
@@ -1451,9 +1450,13 @@ public final class ObjectHouse {
                 return true;
             }
             if (type <= DOUBLE || other <= DOUBLE) {
-                return type > BOOLEAN && type < other && other <= DOUBLE && other != CHAR;
+                return widens(type, other);
             }
             return isBelow(type, other);
+        }
+
+        static boolean widens(int type, int other) {
+            return type > BOOLEAN && type < other && other <= DOUBLE && other != CHAR;
         }
 
         boolean castable(int type, int other) {
@@ -1655,30 +1658,24 @@ public final class ObjectHouse {
 
         /** The method that is executed on an object of this type. */
         int bodyOf(int type, int word) {
-            int slot = 2 * ((type * 131 + word) & CACHE - 1);
+            int slot = 2 * (type * 131 + word & CACHE - 1);
             int key = word * KINDS + type;
-            if (cache[slot] != key) {
-                cache[slot] = key;
-                cache[slot + 1] = findBody(type, word);
+            if (cache[slot] == key) {
+                return cache[slot + 1];
             }
-            return cache[slot + 1];
-        }
-
-        int findBody(int type, int word) {
-            int method = inheritedMethod(type, word);
-            if (method >= 0) {
-                return methodCode[method] >= 0 ? method : NONE;
-            }
-            for (int face = FIRST_CLASS; face < FIRST_CLASS + classes; face++) {
+            int inherited = inheritedMethod(type, word);
+            int method = inherited >= 0 && methodCode[inherited] >= 0 ? inherited : NONE;
+            int bodies = inherited >= 0 ? 1 : 0;
+            for (int face = FIRST_CLASS; face < FIRST_CLASS + classes && inherited < 0; face++) {
                 int m = bodyIn(face, type, word);
                 if (m >= 0 && !isReplaced(face, type, word)) {
-                    if (method >= 0) {
-                        return NONE;
-                    }
                     method = m;
+                    bodies++;
                 }
             }
-            return method;
+            cache[slot] = key;
+            cache[slot + 1] = bodies == 1 ? method : NONE;
+            return cache[slot + 1];
         }
 
         /** The method with a body in an interface of the type. */
@@ -1771,7 +1768,7 @@ public final class ObjectHouse {
                 value = power < 0 ? shrink(value, -power) : grow(value, power);
             }
             boolean negative = (bits >>> (width == 52 ? 63 : 31) & 1L) != 0L;
-            return negative ? value * -1.0 : value;
+            return negative ? value * (0.0 - 1.0) : value;
         }
 
         private static double grow(double start, int power) {
@@ -1806,7 +1803,7 @@ public final class ObjectHouse {
         static long encode(double value, int width, int bias) {
             boolean negative = value < 0.0 || value == 0.0 && 1.0 / value < 0.0;
             long sign = !negative ? 0L : width == 52 ? Long.MIN_VALUE : 0x80000000L;
-            double size = value < 0.0 ? value * -1.0 : value;
+            double size = value < 0.0 ? 0.0 - value : value;
             if (size == 0.0) {
                 return sign;
             }
@@ -1856,6 +1853,7 @@ public final class ObjectHouse {
         private final Words words;
         private final boolean[] typeNames = new boolean[WORDS];
         private int at;
+        private int token;
         private int place = NONE;
         private final int[] itemOp = new int[2 * TOKENS];
         private final int[] itemToken = new int[2 * TOKENS];
@@ -1880,7 +1878,7 @@ public final class ObjectHouse {
         boolean classText() {
             restart();
             markTypeNames();
-            for (int n = 0; n <= CLASSES && token() != T_END; n++) {
+            for (int n = 0; n <= CLASSES && token != T_END; n++) {
                 if (n == CLASSES || !declaration()) {
                     return refuse();
                 }
@@ -1902,29 +1900,29 @@ public final class ObjectHouse {
                     break;
                 }
             }
-            if (token() == K_WHERE && !part(I_WHERE) || token() == K_ORDER && !part(I_ORDER)) {
+            if (token == K_WHERE && !part(I_WHERE) || token == K_ORDER && !part(I_ORDER)) {
                 return refuse();
             }
             if (items > 0 && itemOp[items - 1] == I_ORDER && take(K_DOWN)) {
                 itemCount[items - 1] = 1;
             }
-            if (token() != K_GIVE) {
+            if (token != K_GIVE) {
                 return refuse();
             }
-            for (int n = 0; n <= COLUMNS && (n == 0 || token() == S_COMMA); n++) {
+            for (int n = 0; n <= COLUMNS && (n == 0 || token == S_COMMA); n++) {
                 if (n == COLUMNS) {
-                    at++;
+                    goTo(at + 1);
                     return refuse();
                 }
                 if (!part(I_GIVE)) {
                     return refuse();
                 }
             }
-            return token() == T_END || refuse();
+            return token == T_END || refuse();
         }
 
         private void restart() {
-            at = 0;
+            goTo(0);
             place = NONE;
             items = 0;
             operators = 0;
@@ -1950,15 +1948,17 @@ public final class ObjectHouse {
             return false;
         }
 
-        private int token() {
-            return words.kindAt(at);
+        private void goTo(int position) {
+            at = position;
+            token = at < words.tokens ? words.kind[at] : T_END;
         }
 
         private boolean take(int kind) {
-            if (token() != kind) {
+            if (token != kind) {
                 return false;
             }
             at++;
+            token = at < words.tokens ? words.kind[at] : T_END;
             return true;
         }
 
@@ -1974,16 +1974,16 @@ public final class ObjectHouse {
         private boolean declaration() {
             memberFirst[declarations] = members;
             boolean marked = take(K_ABSTRACT);
-            int word = token();
+            int word = token;
             if (word != K_CLASS && (marked || word != K_INTERFACE && word != K_ENUM && word != K_RECORD)) {
                 return false;
             }
-            at++;
-            if (token() != T_NAME) {
+            goTo(at + 1);
+            if (token != T_NAME) {
                 return false;
             }
             nameToken[declarations] = at;
-            at++;
+            goTo(at + 1);
             if (word == K_RECORD && !components()) {
                 return false;
             }
@@ -2064,20 +2064,20 @@ public final class ObjectHouse {
             int methods = 0;
             for (int n = 0; n < MEMBERS && !take(S_BODY_END); n++) {
                 int first = at;
-                boolean marked = token() == K_ABSTRACT || token() == K_DEFAULT;
+                boolean marked = token == K_ABSTRACT || token == K_DEFAULT;
                 boolean isFull = word != K_INTERFACE && methods == METHODS;
                 if (isFull && (marked || word == K_RECORD) || !addMember(first)) {
                     return false;
                 }
-                at = marked ? at + 1 : at;
+                goTo(marked ? at + 1 : at);
                 if (!type() || !take(T_NAME)) {
                     return false;
                 }
                 if (word == K_CLASS && !marked && take(S_SEMICOLON)) {
                     continue;
                 }
-                if (isFull && token() == S_OPEN) {
-                    at = first;
+                if (isFull && token == S_OPEN) {
+                    goTo(first);
                     return false;
                 }
                 if (!parameters() || !methodBody()) {
@@ -2131,12 +2131,12 @@ public final class ObjectHouse {
             if (!words.isTypeAt(at)) {
                 return false;
             }
-            at++;
-            for (int n = 0; n <= PAIRS && token() == S_SQUARE; n++) {
+            goTo(at + 1);
+            for (int n = 0; n <= PAIRS && token == S_SQUARE; n++) {
                 if (n == PAIRS) {
                     return false;
                 }
-                at++;
+                goTo(at + 1);
                 if (!take(S_SQUARE_END)) {
                     return false;
                 }
@@ -2162,7 +2162,7 @@ public final class ObjectHouse {
 
         /** Reads a part of a query behind its keyword or comma. */
         private boolean part(int op) {
-            at++;
+            goTo(at + 1);
             int first = at;
             int start = items;
             emit(I_START, first, 0);
@@ -2180,22 +2180,22 @@ public final class ObjectHouse {
             if (depth > DEPTH) {
                 return NONE;
             }
-            if (token() >= K_EXISTS && token() <= K_SUM) {
+            if (token >= K_EXISTS && token <= K_SUM) {
                 return quantifier(depth);
             }
             int height = operation(depth);
-            if (height < 0 || token() != S_QUESTION) {
+            if (height < 0 || token != S_QUESTION) {
                 return height;
             }
             int question = at;
             emit(I_THEN, question, 0);
-            at++;
+            goTo(at + 1);
             int first = expression(depth + 1);
-            if (first < 0 || token() != S_COLON) {
+            if (first < 0 || token != S_COLON) {
                 return NONE;
             }
             emit(I_ELSE, question, 0);
-            at++;
+            goTo(at + 1);
             int second = expression(depth + 1);
             if (second < 0) {
                 return NONE;
@@ -2205,7 +2205,7 @@ public final class ObjectHouse {
         }
 
         private int quantifier(int depth) {
-            at++;
+            goTo(at + 1);
             int name = at;
             if (depth == DEPTH || !take(T_NAME) || !take(K_IN)) {
                 return NONE;
@@ -2255,16 +2255,19 @@ public final class ObjectHouse {
             boolean tested = false;
             int height = unary(depth);
             for (int n = 0; n < TOKENS && height >= 0; n++) {
-                int level = levelOf(token());
+                int level = levelOf(token);
                 if (level == 0 || tested && level >= TEST_LEVEL) {
                     break;
                 }
-                if (token() == K_INSTANCEOF) {
+                if (token == K_INSTANCEOF) {
                     height = reduce(base, SHIFT_LEVEL, height);
                     if (operators > base && levelOf(words.kindAt(operatorToken[operators - 1])) == TEST_LEVEL) {
                         break;
                     }
-                    height = instance(height);
+                    int word = at;
+                    goTo(at + 1);
+                    height = type() ? height + 1 : NONE;
+                    emit(I_INSTANCE, word, 0);
                     tested = true;
                 } else {
                     height = push(reduce(base, level, height)) ? unary(depth) : NONE;
@@ -2289,24 +2292,14 @@ public final class ObjectHouse {
             if (operators >= OPERATORS) {
                 return false;
             }
-            if (token() == S_BOTH || token() == S_EITHER) {
+            if (token == S_BOTH || token == S_EITHER) {
                 emit(I_BRANCH, at, 0);
             }
             operatorToken[operators] = at;
             operatorHeight[operators] = height;
             operators++;
-            at++;
+            goTo(at + 1);
             return true;
-        }
-
-        private int instance(int height) {
-            int word = at;
-            at++;
-            if (!type()) {
-                return NONE;
-            }
-            emit(I_INSTANCE, word, 0);
-            return height + 1;
         }
 
         private int unary(int depth) {
@@ -2314,13 +2307,13 @@ public final class ObjectHouse {
                 return NONE;
             }
             int first = at;
-            int word = token();
+            int word = token;
             boolean isCast = word == S_OPEN && words.isTypeAt(at + 1)
                 && (words.kindAt(at + 1) != T_NAME || typeNames[words.wordOf(at + 1)]);
             if (!isCast && word != S_SUBTRACT && word != S_NOT && word != S_TILDE) {
                 return postfix(depth);
             }
-            at++;
+            goTo(at + 1);
             if (isCast && (depth == DEPTH || !type() || !take(S_CLOSE))) {
                 return NONE;
             }
@@ -2336,9 +2329,9 @@ public final class ObjectHouse {
             int before = items;
             int height = primary(depth);
             for (int n = 0; n < TOKENS && height >= 0; n++) {
-                if (token() == S_DOT) {
+                if (token == S_DOT) {
                     height = selection(depth, height, before);
-                } else if (token() == S_SQUARE) {
+                } else if (token == S_SQUARE) {
                     height = index(depth, height);
                 } else {
                     break;
@@ -2348,12 +2341,12 @@ public final class ObjectHouse {
         }
 
         private int selection(int depth, int height, int before) {
-            at++;
+            goTo(at + 1);
             int name = at;
             if (!take(T_NAME)) {
                 return NONE;
             }
-            if (token() == S_OPEN) {
+            if (token == S_OPEN) {
                 return arguments(depth, name, height);
             }
             if (items == before + 1 && itemOp[before] == I_NAME) {
@@ -2365,7 +2358,7 @@ public final class ObjectHouse {
 
         private int index(int depth, int height) {
             int bracket = at;
-            at++;
+            goTo(at + 1);
             int inner = expression(depth + 1);
             if (inner < 0 || !take(S_SQUARE_END)) {
                 return NONE;
@@ -2377,8 +2370,8 @@ public final class ObjectHouse {
         private int arguments(int depth, int name, int height) {
             int most = height;
             int count = 0;
-            at++;
-            while (count < TOKENS && token() != S_CLOSE) {
+            goTo(at + 1);
+            while (count < TOKENS && token != S_CLOSE) {
                 if (count > 0 && !take(S_COMMA)) {
                     return NONE;
                 }
@@ -2389,30 +2382,30 @@ public final class ObjectHouse {
                 most = Math.max(most, inner);
                 count++;
             }
-            at++;
+            goTo(at + 1);
             emit(I_CALL, name, count);
             return most + 1;
         }
 
         private int primary(int depth) {
             int first = at;
-            int word = token();
+            int word = token;
             boolean isWord = word == K_TRUE || word == K_FALSE || word == K_NULL;
             if (isWord || word == K_THIS || word >= T_INT && word <= T_TEXT) {
-                at++;
+                goTo(at + 1);
                 emit(word == K_THIS ? I_THIS : I_LITERAL, first, 0);
                 return 1;
             }
             if (word == T_NAME) {
-                at++;
-                boolean isCall = token() == S_OPEN;
+                goTo(at + 1);
+                boolean isCall = token == S_OPEN;
                 emit(isCall ? I_SELF : I_NAME, first, 0);
                 return isCall ? arguments(depth, first, 0) : 1;
             }
             if (word != S_OPEN) {
                 return NONE;
             }
-            at++;
+            goTo(at + 1);
             int height = expression(depth + 1);
             return height < 0 || !take(S_CLOSE) ? NONE : height;
         }
@@ -2825,7 +2818,7 @@ public final class ObjectHouse {
             for (int other = FIRST_CLASS; other < FIRST_CLASS + types.classes; other++) {
                 if (types.isBelow(type, other)) {
                     for (int m = types.methodFirst[other]; m < types.methodFirst[other + 1]; m++) {
-                        if (types.findBody(type, types.methodName[m]) < 0) {
+                        if (types.bodyOf(type, types.methodName[m]) < 0) {
                             return false;
                         }
                     }
@@ -2841,7 +2834,7 @@ public final class ObjectHouse {
                     if (parser.memberFrom[m] >= 0) {
                         types.methodCode[method] = length;
                         parameters(behindType(typeToken(m)) + 2);
-                        begin(FIRST_CLASS + d, 1 + scopeCount);
+                        prepare(FIRST_CLASS + d, 1 + scopeCount);
                         kinds[0] = types.methodTypes[method * SIGNATURE];
                         if (!items(parser.memberFrom[m], parser.memberTo[m])) {
                             return false;
@@ -2853,7 +2846,7 @@ public final class ObjectHouse {
             return true;
         }
 
-        private void begin(int type, int slots) {
+        private void prepare(int type, int slots) {
             self = type;
             depth = slots;
             top = 0;
@@ -2867,7 +2860,7 @@ public final class ObjectHouse {
             columns = 0;
             orderKind = NONE;
             isDown = false;
-            begin(NONE, 0);
+            prepare(NONE, 0);
             if (!items(0, parser.items)) {
                 return false;
             }
@@ -2881,20 +2874,44 @@ public final class ObjectHouse {
             return true;
         }
 
+        /** Checks the items and writes their code; false at the first error. */
         private boolean items(int from, int to) {
-            for (int i = from; i < to; i++) {
+            boolean isRight = true;
+            for (int i = from; i < to && isRight; i++) {
                 int token = parser.itemToken[i];
-                int op = parser.itemOp[i];
-                boolean isRight = op <= I_SELF ? simple(op, token, parser.itemCount[i])
-                    : op <= I_BINARY || op == I_CAST || op == I_INSTANCE ? operation(op, token, parser.itemCount[i])
-                    : op <= I_CHOICE ? branch(op, token)
-                    : op <= I_RETURN ? bodyPart(op, token)
-                    : queryPart(op, token, parser.itemCount[i]);
-                if (!isRight) {
-                    return false;
+                int kind = words.kindAt(token);
+                int word = words.wordOf(token);
+                int count = parser.itemCount[i];
+                place = words.positionOf(token);
+                switch (parser.itemOp[i]) {
+                    case I_START: isRight = count <= HEIGHT; break;
+                    case I_NAME: isRight = variable(word); break;
+                    case I_OWNER: isRight = variable(word) || nameOf(word, true); break;
+                    case I_SOURCE: isRight = variable(word) || nameOf(word, false); break;
+                    case I_LITERAL: isRight = literal(token); break;
+                    case I_THIS: isRight = self >= 0 && thisObject(); break;
+                    case I_SELF: isRight = thisObject(); break;
+                    case I_FIELD: isRight = selection(word); break;
+                    case I_CALL: isRight = callOf(word, count); break;
+                    case I_INDEX: isRight = index(); break;
+                    case I_UNARY: isRight = unary(kind); break;
+                    case I_BINARY: isRight = binary(kind); break;
+                    case I_BRANCH: branch(kind == S_BOTH ? BOTH : EITHER); break;
+                    case I_THEN: branch(CHOOSE); break;
+                    case I_ELSE: otherBranch(); break;
+                    case I_CHOICE: isRight = choice(); break;
+                    case I_CAST: isRight = cast(token); break;
+                    case I_INSTANCE: isRight = instance(token); break;
+                    case I_BIND: isRight = bind(word, 1, words.kindAt(token - 1) == K_ALL ? 1 : 0); break;
+                    case I_QUANTIFIER: isRight = quantifier(words.kindAt(token - 1)); break;
+                    case I_RETURN: isRight = result(); break;
+                    case I_FROM: isRight = scopeOf(word) < 0 && bind(word, 0, 0); break;
+                    case I_WHERE: isRight = condition(); break;
+                    case I_ORDER: isRight = order(count == 1); break;
+                    default: column(); break;
                 }
             }
-            return true;
+            return isRight;
         }
 
         private void emit(int value) {
@@ -2910,7 +2927,8 @@ public final class ObjectHouse {
         }
 
         private void emit3(int op, int a, int b) {
-            emit2(op, a);
+            emit(op);
+            emit(a);
             emit(b);
         }
 
@@ -2932,29 +2950,13 @@ public final class ObjectHouse {
             return true;
         }
 
-        private boolean simple(int op, int token, int count) {
-            switch (op) {
-                case I_START: return count <= HEIGHT || wrong(token);
-                case I_NAME: return variable(token) || wrong(token);
-                case I_OWNER: return variable(token) || nameOf(token, true) || wrong(token);
-                case I_SOURCE: return variable(token) || nameOf(token, false) || wrong(token);
-                case I_LITERAL: return literal(token);
-                case I_THIS:
-                    if (self < 0) {
-                        return wrong(token);
-                    }
-                    emit2(LOCAL, 0);
-                    push(self);
-                    return true;
-                default:
-                    emit2(LOCAL, 0);
-                    push(self < 0 ? NO_THIS : self);
-                    return true;
-            }
+        private boolean thisObject() {
+            emit2(LOCAL, 0);
+            push(self < 0 ? NO_THIS : self);
+            return true;
         }
 
-        private boolean variable(int token) {
-            int word = words.wordOf(token);
+        private boolean variable(int word) {
             int scope = scopeOf(word);
             if (scope >= 0) {
                 emit2(LOCAL, scopes[scope + 2]);
@@ -2972,8 +2974,8 @@ public final class ObjectHouse {
         }
 
         /** The name of an enumeration whose constant follows, or of a class whose objects are the source. */
-        private boolean nameOf(int token, boolean isOwner) {
-            int type = types.typeNamed(words.wordOf(token));
+        private boolean nameOf(int word, boolean isOwner) {
+            int type = types.typeNamed(word);
             if (type < FIRST_CLASS || isOwner && types.sort[type] != IS_ENUM) {
                 return false;
             }
@@ -3021,21 +3023,10 @@ public final class ObjectHouse {
             if (type == NULL_TYPE) {
                 return other >= OBJECT;
             }
-            return type >= 0 && type < TYPES && types.fit(type, other);
-        }
-
-        private boolean operation(int op, int token, int count) {
-            boolean isRight;
-            switch (op) {
-                case I_FIELD: isRight = selection(words.wordOf(token)); break;
-                case I_CALL: isRight = callOf(words.wordOf(token), count); break;
-                case I_INDEX: isRight = index(); break;
-                case I_UNARY: isRight = unary(words.kindAt(token)); break;
-                case I_BINARY: isRight = binary(words.kindAt(token)); break;
-                case I_INSTANCE: return instance(token);
-                default: return cast(token);
+            if (type <= DOUBLE || other <= DOUBLE) {
+                return type == other || Types.widens(type, other);
             }
-            return isRight || wrong(token);
+            return types.isBelow(type, other);
         }
 
         private boolean selection(int word) {
@@ -3091,7 +3082,7 @@ public final class ObjectHouse {
                 emit(TEXT_LENGTH);
                 return replace(1, INT);
             }
-            if (word != W_AT || count != 1 || !suits(typeBelow(0), INT)) {
+            if (word != W_AT || count != 1 || !isIndex(typeBelow(0))) {
                 return false;
             }
             emit(TEXT_AT);
@@ -3106,9 +3097,13 @@ public final class ObjectHouse {
             }
         }
 
+        private static boolean isIndex(int type) {
+            return type >= BYTE && type <= INT;
+        }
+
         private boolean index() {
             int type = typeBelow(1);
-            if (type < FIRST_CLASS || types.sort[type] != IS_ARRAY || !suits(typeBelow(0), INT)) {
+            if (type < FIRST_CLASS || types.sort[type] != IS_ARRAY || !isIndex(typeBelow(0))) {
                 return false;
             }
             emit(INDEX);
@@ -3146,18 +3141,13 @@ public final class ObjectHouse {
                 case S_AND: case S_OR: case S_XOR:
                     return left == BOOLEAN && right == BOOLEAN || isInteger(left) && isInteger(right);
                 case S_EQUAL: case S_UNEQUAL:
-                    return left == BOOLEAN && right == BOOLEAN || isNumber(left) && isNumber(right)
-                        || areComparable(left, right);
+                    if (isReference(left) && isReference(right)) {
+                        return left == NULL_TYPE || right == NULL_TYPE || types.castable(left, right);
+                    }
+                    return left == BOOLEAN && right == BOOLEAN || isNumber(left) && isNumber(right);
                 default:
                     return isNumber(left) && isNumber(right);
             }
-        }
-
-        private boolean areComparable(int left, int right) {
-            if (!isReference(left) || !isReference(right)) {
-                return false;
-            }
-            return left == NULL_TYPE || right == NULL_TYPE || types.castable(left, right);
         }
 
         private static int typeOf(int symbol, int left, int right) {
@@ -3180,10 +3170,10 @@ public final class ObjectHouse {
             if (type <= DOUBLE) {
                 emit3(CAST, from, type);
                 boolean isRight = isNumber(from) && isNumber(type) || from == type;
-                return isRight ? replace(1, type) : wrong(token);
+                return isRight && replace(1, type);
             }
             if (!isReference(from) || from != NULL_TYPE && !types.castable(from, type)) {
-                return wrong(token);
+                return false;
             }
             emit2(CAST_TO, type);
             return replace(1, type);
@@ -3196,7 +3186,7 @@ public final class ObjectHouse {
                 return wrong(token + 1);
             }
             if (type < OBJECT || !isReference(from) || from != NULL_TYPE && !types.castable(from, type)) {
-                return wrong(token);
+                return false;
             }
             emit2(INSTANCE, type);
             return replace(1, BOOLEAN);
@@ -3211,23 +3201,20 @@ public final class ObjectHouse {
 
         // The type stack keeps the types of the parts to the left for the check of the whole, but the machine has taken
         // their values from its stack when the parts to the right are evaluated: so depth and top part here.
-        private boolean branch(int op, int token) {
-            if (op == I_CHOICE) {
-                return choice() || wrong(token);
-            }
+        private void branch(int op) {
             depth--;
-            if (op == I_ELSE) {
-                int condition = jumps[jumpCount - 1];
-                jumps[jumpCount - 1] = length;
-                emit2(CONVERT, 0);
-                emit2(BOOLEAN, BOOLEAN);
-                emit2(JUMP, 0);
-                code[condition + 1] = length;
-                return true;
-            }
             remember(length);
-            emit2(op == I_THEN ? CHOOSE : words.kindAt(token) == S_BOTH ? BOTH : EITHER, 0);
-            return true;
+            emit2(op, 0);
+        }
+
+        private void otherBranch() {
+            depth--;
+            int condition = jumps[jumpCount - 1];
+            jumps[jumpCount - 1] = length;
+            emit2(CONVERT, 0);
+            emit2(BOOLEAN, BOOLEAN);
+            emit2(JUMP, 0);
+            code[condition + 1] = length;
         }
 
         private boolean choice() {
@@ -3262,27 +3249,21 @@ public final class ObjectHouse {
             return suits(first, second) ? second : suits(second, first) ? first : NONE;
         }
 
-        private boolean bodyPart(int op, int token) {
-            if (op == I_BIND) {
-                return bind(token, 1, words.kindAt(token - 1) == K_ALL ? 1 : 0) || wrong(token);
-            }
-            if (op == I_QUANTIFIER) {
-                return quantifier(words.kindAt(token - 1)) || wrong(token);
-            }
+        private boolean result() {
             emit3(RETURN, typeBelow(0), kinds[0]);
-            return suits(typeBelow(0), kinds[0]) || wrong(token);
+            return suits(typeBelow(0), kinds[0]);
         }
 
         /** Begins to go through a source: four slots hold the source, the position, the result and the element. */
-        private boolean bind(int token, int steps, int start) {
+        private boolean bind(int word, int steps, int start) {
             int type = typeBelow(0);
             int inner = type >= CLASS_NAME ? type - CLASS_NAME
                 : type >= FIRST_CLASS && types.sort[type] == IS_ARRAY ? types.element[type] : NONE;
-            if (inner < 0 || types.typeNamed(words.wordOf(token)) >= 0) {
+            if (inner < 0 || types.typeNamed(word) >= 0) {
                 return false;
             }
             emit3(LOOP, steps, start);
-            open(words.wordOf(token), inner, depth + 2);
+            open(word, inner, depth + 2);
             depth += 3;
             remember(length);
             emit2(NEXT, 0);
@@ -3306,24 +3287,24 @@ public final class ObjectHouse {
             return isNumber(type) && replace(2, type == FLOAT ? DOUBLE : Math.max(type, INT));
         }
 
-        private boolean queryPart(int op, int token, int count) {
-            int type = typeBelow(0);
-            switch (op) {
-                case I_FROM:
-                    return scopeOf(words.wordOf(token)) < 0 && bind(token, 0, 0) || wrong(token);
-                case I_WHERE:
-                    emit2(UNLESS, jumps[jumpCount - 1]);
-                    top--;
-                    depth--;
-                    return type == BOOLEAN || wrong(token);
-                case I_ORDER:
-                    orderKind = type;
-                    isDown = count == 1;
-                    return type >= BOOLEAN && type <= DOUBLE || type == TEXT || wrong(token);
-                default:
-                    kinds[columns] = type == NULL_TYPE ? OBJECT : type;
-                    columns++;
-                    return true;
+        private boolean condition() {
+            boolean isRight = typeBelow(0) == BOOLEAN;
+            emit2(UNLESS, jumps[jumpCount - 1]);
+            top--;
+            depth--;
+            return isRight;
+        }
+
+        private boolean order(boolean down) {
+            orderKind = typeBelow(0);
+            isDown = down;
+            return orderKind >= BOOLEAN && orderKind <= DOUBLE || orderKind == TEXT;
+        }
+
+        private void column() {
+            if (columns < COLUMNS) {
+                kinds[columns] = typeBelow(0) == NULL_TYPE ? OBJECT : typeBelow(0);
+                columns++;
             }
         }
     }
