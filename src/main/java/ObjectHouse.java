@@ -56,6 +56,9 @@ public final class ObjectHouse {
     private static final int SCOPES = 64;
     private static final int FRAME = 400;
     private static final int TICKS = 20000000;
+    private static final int MOST_INT = 0x7FFFFFFF;
+    private static final long MOST_LONG = 0x7FFFFFFFFFFFFFFFL;
+    private static final long LEAST_LONG = 0x8000000000000000L;
     private static final int BLOCK = 2;
     private static final int BLOCKS = CELLS + CHANGES + BLOCK * (OBJECTS + CHANGES + 1);
 
@@ -460,7 +463,7 @@ public final class ObjectHouse {
         if (kind < 0 || kind > OBJECT) {
             return WRONG;
         }
-        if (kind == OBJECT ? bits < 0L || bits > Integer.MAX_VALUE : !Types.hasBits(kind, bits)) {
+        if (kind == OBJECT ? bits < 0L || bits > MOST_INT : !Types.hasBits(kind, bits)) {
             return WRONG;
         }
         if (arguments >= ARGUMENTS) {
@@ -1246,7 +1249,7 @@ public final class ObjectHouse {
                 return decimal(i, j);
             }
             boolean isLong = byteAt(j) == 'L';
-            long most = isLong ? Long.MAX_VALUE : Integer.MAX_VALUE;
+            long most = isLong ? MOST_LONG : MOST_INT;
             long number = 0L;
             for (int n = i; n < j; n++) {
                 int digit = source[n] - '0';
@@ -1700,7 +1703,7 @@ public final class ObjectHouse {
             switch (type) {
                 case BOOLEAN: return bits == 0L || bits == 1L;
                 case FLOAT: return bits >= 0L && bits <= 0xFFFFFFFFL && (bits & 0x7FFFFFFFL) <= 0x7F800000L;
-                case DOUBLE: return (bits & Long.MAX_VALUE) <= 0x7FF0000000000000L;
+                case DOUBLE: return (bits & MOST_LONG) <= 0x7FF0000000000000L;
                 default: return narrow(bits, type) == bits;
             }
         }
@@ -1718,7 +1721,7 @@ public final class ObjectHouse {
         /** A key whose order is that of the numbers; the two zeros have the same one. */
         static long key(long bits, int type) {
             if (type == DOUBLE) {
-                return bits == Long.MIN_VALUE ? 0L : orderKey(bits, type);
+                return bits == LEAST_LONG ? 0L : orderKey(bits, type);
             }
             return type == FLOAT && bits == 0x80000000L ? 0L : orderKey(bits, type);
         }
@@ -1726,9 +1729,9 @@ public final class ObjectHouse {
         /** A key whose order is that of the numbers, with -0.0 before 0.0. */
         static long orderKey(long bits, int type) {
             if (type == DOUBLE) {
-                return bits < 0L ? bits ^ Long.MAX_VALUE : bits;
+                return bits < 0L ? bits ^ MOST_LONG : bits;
             }
-            return type == FLOAT && bits >= 0x80000000L ? (int) bits ^ Integer.MAX_VALUE : bits;
+            return type == FLOAT && bits >= 0x80000000L ? (int) bits ^ MOST_INT : bits;
         }
 
         /** Converts a plain value to another plain type, as a cast does. */
@@ -1802,7 +1805,7 @@ public final class ObjectHouse {
         /** The bits of a number as a float (width 23, bias 127; the number must be one) or double (52, 1023). */
         static long encode(double value, int width, int bias) {
             boolean negative = value < 0.0 || value == 0.0 && 1.0 / value < 0.0;
-            long sign = !negative ? 0L : width == 52 ? Long.MIN_VALUE : 0x80000000L;
+            long sign = !negative ? 0L : width == 52 ? LEAST_LONG : 0x80000000L;
             double size = value < 0.0 ? 0.0 - value : value;
             if (size == 0.0) {
                 return sign;
@@ -1931,7 +1934,9 @@ public final class ObjectHouse {
         }
 
         private void markTypeNames() {
-            Arrays.fill(typeNames, false);
+            for (int word = 0; word < WORDS; word++) {
+                typeNames[word] = false;
+            }
             typeNames[W_OBJECT] = true;
             typeNames[W_TEXT] = true;
             for (int i = 1; i < words.tokens; i++) {
@@ -2563,7 +2568,7 @@ public final class ObjectHouse {
         private void addArrayTypes() {
             for (int i = 0; i < words.tokens; i++) {
                 int type = words.isTypeAt(i) && isPair(i + 1) ? baseAt(i) : NONE;
-                for (int token = i + 1; type >= 0 && isPair(token); token += 2) {
+                for (int token = i + 1; token < words.tokens && type >= 0 && isPair(token); token += 2) {
                     type = types.arrayOf[type] >= 0 ? types.arrayOf[type] : types.makeArray(type, 1);
                 }
             }
@@ -2582,7 +2587,7 @@ public final class ObjectHouse {
         /** The type that is named here, if it is known. */
         private int typeAt(int token) {
             int type = baseAt(token);
-            for (int i = token + 1; type >= 0 && isPair(i); i += 2) {
+            for (int i = token + 1; i < words.tokens && type >= 0 && isPair(i); i += 2) {
                 type = types.arrayOf[type];
             }
             return type;
@@ -2590,7 +2595,7 @@ public final class ObjectHouse {
 
         private int behindType(int token) {
             int i = token + 1;
-            while (isPair(i)) {
+            while (i < words.tokens && isPair(i)) {
                 i += 2;
             }
             return i;
@@ -2878,6 +2883,9 @@ public final class ObjectHouse {
         private boolean items(int from, int to) {
             boolean isRight = true;
             for (int i = from; i < to && isRight; i++) {
+                if (length > CODE_ROOM - FRAME) {
+                    return false;
+                }
                 int token = parser.itemToken[i];
                 int kind = words.kindAt(token);
                 int word = words.wordOf(token);
@@ -3524,7 +3532,7 @@ public final class ObjectHouse {
                 return value ^ 0x80000000L;
             }
             if (type == DOUBLE) {
-                return value ^ Long.MIN_VALUE;
+                return value ^ LEAST_LONG;
             }
             return type == LONG ? -value : (int) -value;
         }
@@ -3596,7 +3604,7 @@ public final class ObjectHouse {
                 return 0L;
             }
             if (symbol == S_REMAINDER) {
-                return remainder(a, b, width, type == FLOAT ? 0x80000000L : Long.MIN_VALUE);
+                return remainder(a, b, width, type == FLOAT ? 0x80000000L : LEAST_LONG);
             }
             double x = Types.decode(a, width, bias);
             double y = Types.decode(b, width, bias);
@@ -3623,7 +3631,7 @@ public final class ObjectHouse {
         }
 
         private static boolean isNoNumber(int symbol, long a, long b, int type) {
-            long sizes = type == FLOAT ? 0x7FFFFFFFL : Long.MAX_VALUE;
+            long sizes = type == FLOAT ? 0x7FFFFFFFL : MOST_LONG;
             long infinity = type == FLOAT ? 0x7F800000L : 0x7FF0000000000000L;
             boolean isInfiniteA = (a & sizes) == infinity;
             boolean isInfiniteB = (b & sizes) == infinity;
@@ -4388,7 +4396,7 @@ public final class ObjectHouse {
             Arrays.fill(forward, 0);
             met = 0;
             meet(t);
-            for (int i = 0; i < met; i++) {
+            for (int i = 0; i < met && i < OBJECTS; i++) {
                 int x = first[i];
                 store.touch(x);
                 for (int k = 0; k < store.cellsOf(x); k++) {
@@ -4705,7 +4713,7 @@ public final class ObjectHouse {
             if (!areMet(t, u)) {
                 return false;
             }
-            for (int p = 0; p < met; p++) {
+            for (int p = 0; p < met && p < OBJECTS; p++) {
                 int x = first[p];
                 int y = second[p];
                 if (!store.hasCells(x)) {
@@ -4759,10 +4767,10 @@ public final class ObjectHouse {
             made = 0;
             listed = 0;
             pair(t, u);
-            for (int p = 0; p < met && made <= PATCH_ROWS; p++) {
+            for (int p = 0; p < met && p < OBJECTS && made <= PATCH_ROWS; p++) {
                 comparePair(first[p], second[p]);
             }
-            for (int j = 0; j < listed && made <= PATCH_ROWS; j++) {
+            for (int j = 0; j < listed && j <= PATCH_ROWS && made <= PATCH_ROWS; j++) {
                 describeNew(j);
             }
             if (made > PATCH_ROWS) {
@@ -4941,8 +4949,8 @@ public final class ObjectHouse {
         // The number of the next object when the last commit was recorded: texts before it are in the log.
         private int since = 1;
         private final boolean[] isReached = new boolean[OBJECTS + 1];
-        private final int[] stack = new int[OBJECTS + 1];
-        private int top;
+        private final int[] reached = new int[OBJECTS + 1];
+        private int count;
 
         Journal(Store store) {
             this.store = store;
@@ -4957,16 +4965,16 @@ public final class ObjectHouse {
             log.addNumber(store.next, 4);
             int countAt = log.length;
             log.addNumber(0L, 4);
-            int count = 0;
+            int written = 0;
             for (int t = 1; t < store.next; t++) {
                 boolean isNewText = t >= since && store.kind[t] == TEXT && store.born[t] == 0;
                 if (act.own[t] != 0 || isNewText) {
                     writeObject(act, t);
-                    count++;
+                    written++;
                 }
             }
             writeRoots(act);
-            setNumber(countAt, count);
+            setNumber(countAt, written);
             if (!finish(start)) {
                 return false;
             }
@@ -5032,14 +5040,14 @@ public final class ObjectHouse {
             log.addNumber(version, 4);
             int countAt = log.length;
             log.addNumber(0L, 4);
-            int count = 0;
+            int collected = 0;
             for (int t = store.fixed + 1; t < store.next; t++) {
                 if (isCollected(t)) {
                     log.addNumber(t, 4);
-                    count++;
+                    collected++;
                 }
             }
-            setNumber(countAt, count);
+            setNumber(countAt, collected);
             if (!finish(start)) {
                 return FULL;
             }
@@ -5049,7 +5057,7 @@ public final class ObjectHouse {
                 }
             }
             store.oldest = version;
-            return count;
+            return collected;
         }
 
         private boolean isCollected(int t) {
@@ -5059,8 +5067,8 @@ public final class ObjectHouse {
         private void reach(int t) {
             if (t > 0 && !isReached[t]) {
                 isReached[t] = true;
-                stack[top] = t;
-                top++;
+                reached[count] = t;
+                count++;
             }
         }
 
@@ -5068,7 +5076,7 @@ public final class ObjectHouse {
             for (int t = 0; t <= OBJECTS; t++) {
                 isReached[t] = false;
             }
-            top = 0;
+            count = 0;
             for (int i = version * ROOTS; i < (store.newest + 1) * ROOTS; i++) {
                 reach(store.roots[i]);
             }
@@ -5077,9 +5085,8 @@ public final class ObjectHouse {
                     reachFromAct(store.acts[n]);
                 }
             }
-            while (top > 0) {
-                top--;
-                reachFrom(stack[top], version);
+            for (int i = 0; i < count && i < OBJECTS; i++) {
+                reachFrom(reached[i], version);
             }
         }
 
@@ -5177,9 +5184,9 @@ public final class ObjectHouse {
 
         private void readCommit(int from) {
             int version = Math.min(Math.max(intAt(from), 0), VERSIONS);
-            int count = intAt(from + 8);
+            int objects = intAt(from + 8);
             int p = from + 12;
-            for (int n = 0; n < count && p < log.length; n++) {
+            for (int n = 0; n < objects && p < log.length; n++) {
                 p = readObject(p);
             }
             System.arraycopy(store.roots, store.newest * ROOTS, store.roots, version * ROOTS, ROOTS);
@@ -5212,8 +5219,8 @@ public final class ObjectHouse {
         }
 
         private void readCollection(int from) {
-            int count = intAt(from);
-            for (int n = 0; n < count; n++) {
+            int collected = intAt(from);
+            for (int n = 0; n < collected && n < OBJECTS; n++) {
                 store.restoreNothing(intAt(from + 4 + 4 * n));
             }
         }
