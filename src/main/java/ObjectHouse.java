@@ -587,15 +587,7 @@ public final class ObjectHouse {
     }
 
     public long get(int t, int i) {
-        int wrong = missing(t);
-        if (wrong == 0 && !store.hasFields(t)) {
-            wrong = WRONG;
-        }
-        if (wrong == 0 && (i < 0 || i >= store.size[t])) {
-            wrong = UNKNOWN;
-        }
-        code = -wrong;
-        return wrong == 0 ? store.look(t, i) : 0L;
+        return lookAt(t, i, false);
     }
 
     public int put(int t, int i, int kind, long bits) {
@@ -620,15 +612,7 @@ public final class ObjectHouse {
     }
 
     public long element(int t, int i) {
-        int wrong = missing(t);
-        if (wrong == 0 && !store.isArray(t)) {
-            wrong = WRONG;
-        }
-        if (wrong == 0 && (i < 0 || i >= store.size[t])) {
-            wrong = OUTSIDE;
-        }
-        code = -wrong;
-        return wrong == 0 ? store.look(t, i) : 0L;
+        return lookAt(t, i, true);
     }
 
     public int set(int t, int i, int kind, long bits) {
@@ -965,6 +949,18 @@ public final class ObjectHouse {
             return UNKNOWN;
         }
         return t == 0 ? IS_NULL : 0;
+    }
+
+    private long lookAt(int t, int i, boolean inArray) {
+        int wrong = missing(t);
+        if (wrong == 0 && !(inArray ? store.isArray(t) : store.hasFields(t))) {
+            wrong = WRONG;
+        }
+        if (wrong == 0 && (i < 0 || i >= store.size[t])) {
+            wrong = inArray ? OUTSIDE : UNKNOWN;
+        }
+        code = -wrong;
+        return wrong == 0 ? store.look(t, i) : 0L;
     }
 
     private boolean isReference(long bits) {

@@ -406,6 +406,17 @@ public final class PromiseTests {
         is("element", y.element(4, 0), n);
         is("drop", y.drop(n + 1), true);
         is("logged()", y.logged() <= 40000, true);
+        // All of the 40000 bytes, and one byte more.
+        for (int more = 0; more <= 1; more++) {
+            ObjectHouse z = open();
+            for (int i = 0; i < 12; i++) {
+                z.array(5, 400);
+            }
+            Check.text(z, "x".repeat(1000));
+            Check.text(z, "x".repeat(409 + more));
+            is("keep(1)", z.keep(1), more == 0 ? 1 : -12);
+            is("logged()", z.logged(), more == 0 ? 40000 : 0);
+        }
     }
 
     private static void p16() {

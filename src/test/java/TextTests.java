@@ -336,6 +336,8 @@ public final class TextTests {
         rightBody("B", "b?q:(B)null");
         rightBody("long", "b?p:l");
         rightBody("char", "b?c:c");
+        rightBody("boolean", "b?b:true");
+        rightBody("Object", "b?null:null");
         refusedReturn("char", "b?c:(byte)1");
         body(2, "int", "p§[0]");
         body(2, "int", "is§[l]");
