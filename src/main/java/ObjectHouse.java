@@ -403,7 +403,7 @@ public final class ObjectHouse {
         if (!opened() || version < store.oldest || version > store.newest) {
             return false;
         }
-        store.look(version);
+        store.showVersion(version);
         return true;
     }
 
@@ -960,7 +960,7 @@ public final class ObjectHouse {
             wrong = inArray ? OUTSIDE : UNKNOWN;
         }
         code = -wrong;
-        return wrong == 0 ? store.look(t, i) : 0L;
+        return wrong == 0 ? store.readCell(t, i) : 0L;
     }
 
     private boolean isReference(long bits) {
@@ -3442,7 +3442,7 @@ public final class ObjectHouse {
             }
             at += op == FIELD ? 2 : 1;
             switch (op) {
-                case FIELD: case INDEX: stack[top - 1] = store.look(t, i); break;
+                case FIELD: case INDEX: stack[top - 1] = store.readCell(t, i); break;
                 case NUMBER: stack[top - 1] = store.place[t]; break;
                 case TEXT_AT: stack[top - 1] = store.words.letterOf(store.place[t], i); break;
                 default: stack[top - 1] = store.size[t]; break;
@@ -3772,7 +3772,7 @@ public final class ObjectHouse {
             if (!step()) {
                 return;
             }
-            stack[top - 1] = source < 0 ? list[listFirst[-source] + i] : store.look(source, i);
+            stack[top - 1] = source < 0 ? list[listFirst[-source] + i] : store.readCell(source, i);
             stack[top - 3] = i + 1;
             at += 2;
         }
@@ -3884,7 +3884,7 @@ public final class ObjectHouse {
             store.readClass(k);
             for (int t = 1; t < store.next; t++) {
                 if (store.isAlive(t) && types.isBelow(store.kind[t], k)) {
-                    long key = Types.key(store.look(t, i), type);
+                    long key = Types.key(store.readCell(t, i), type);
                     if (key >= low && key <= high && count < OBJECTS) {
                         keys[count] = key;
                         picked[count] = t;
@@ -4101,7 +4101,7 @@ public final class ObjectHouse {
             return null;
         }
 
-        void look(int version) {
+        void showVersion(int version) {
             view = acts[ACTS];
             view.start(0, version);
             System.arraycopy(roots, version * ROOTS, view.roots, 0, ROOTS);
@@ -4175,7 +4175,7 @@ public final class ObjectHouse {
             view.marks[t] |= READ;
         }
 
-        long look(int t, int i) {
+        long readCell(int t, int i) {
             touch(t);
             return cell(t, i);
         }
@@ -4886,7 +4886,7 @@ public final class ObjectHouse {
                 if (!store.isAlive(x) || k >= store.cellsOf(x)) {
                     return false;
                 }
-                if (store.look(x, k) != rows[row + 3]) {
+                if (store.readCell(x, k) != rows[row + 3]) {
                     return false;
                 }
                 type = store.kind[x];

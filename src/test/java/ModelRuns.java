@@ -400,12 +400,15 @@ public final class ModelRuns {
     final ObjectHouse x = new ObjectHouse();
     final Model m = new Model();
     final StringBuilder trace = new StringBuilder();
+    // Many transactions, collections and crashes.
+    final boolean isBusy;
     static final Map<String, Integer> stats = new TreeMap<>();
     int calls = 0;
 
     ModelRuns(long seed) {
         g = new G(seed);
         mk = new Maker(g);
+        isBusy = seed % 3 == 1;
     }
 
     void same(String call, long got, long want) {
@@ -582,7 +585,9 @@ public final class ModelRuns {
             same("begin()", x.begin(), m.begin());
             return;
         }
-        if (k < 14) {
+        if (isBusy && m.opened() && g.p(30)) {
+            busyOp();
+        } else if (k < 14) {
             List<Integer> c = new ArrayList<>();
             for (int i = 10; i < m.types.size(); i++) if (m.decl(m.types.get(i)) != null && m.decl(m.types.get(i)).sort.equals("class")) c.add(i);
             int t = c.isEmpty() || g.p(5) ? type() : g.of(c);
@@ -648,6 +653,32 @@ public final class ModelRuns {
             if (g.p(10)) compareLog();
             if (g.p(20)) same("declare()", x.declare(), m.declare());
             if (g.p(20)) same("place()", x.place(), m.place());
+        }
+    }
+
+    void busyOp() {
+        int v = m.versions.lastKey() - (g.p(70) ? 0 : g.n(3));
+        switch (g.n(12)) {
+            case 0: case 1:
+                same("sweep(" + v + ")", x.sweep(v), m.sweep(v));
+                break;
+            case 2:
+                if (g.p(40)) crash();
+                break;
+            case 3:
+                same("view(" + v + ")", x.view(v) ? 1 : 0, m.view(v));
+                break;
+            case 4: case 5: {
+                int i = g.n(4);
+                int t = obj();
+                same("root(" + i + "," + t + ")", x.root(i, t), m.root(i, t));
+                break;
+            }
+            case 6:
+                same("rootAt(0)", x.rootAt(0), m.rootAt(0));
+                break;
+            default:
+                act();
         }
     }
 
