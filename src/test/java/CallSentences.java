@@ -16,6 +16,7 @@ public final class CallSentences {
         places();
         kinds();
         fieldsOfTypes();
+        fitting();
         transactions();
         making();
         arguments();
@@ -40,6 +41,8 @@ public final class CallSentences {
         Sentence.run("`class A{}` declare()=1 feed(-1,-2147483648,2147483647,0,1)=20 text()=-1 end(0)=0 feed(2122219134,0,0,0,0)=20 end(4)=4 text()=1 letter(1,0)=-13 size(1)=-13 view(0)=true size(1)=4 letter(1,0)='~' letter(1,3)='~'");
         Sentence.of("`n`: the number of bytes to keep, 0 to the number of bytes in the tray");
         Sentence.run("end(0)=0 end(1)=-1 end(-1)=-1 feed(0,0,0,0,0)=20 end(21)=-1 end(-1)=-1 end(2147483647)=-1 end(-2147483648)=-1 end(20)=20 end(19)=19 end(20)=-1 feed(0,0,0,0,0)=39 end(40)=-1 end(39)=39 end(0)=0 end(1)=-1");
+        Sentence.of("Returns n; -1 if n is not allowed, and then nothing changes.");
+        Sentence.run("`class A{}` end(-1)=-1 end(10)=-1 end(2147483647)=-1 declare()=1 `class A{}` end(9)=9 end(0)=0 end(9)=-1 end(0)=0");
         // What end took away does not come back.
         Sentence.run("`class A{}class B{}` end(9)=9 feed(538976288,538976288,538976288,538976288,538976288)=29 declare()=1 kinds()=11");
         Sentence.beyond("Returns the number of bytes in the tray afterwards; -1 if there would be more than 65540, and then nothing changes.");
@@ -190,6 +193,12 @@ public final class CallSentences {
             + " `n`named(18)=-14 `n`named(-1)=-14 `n`named(4)=-14 `length`named(15)=-14 `class`named(12)=-14");
     }
 
+    private static void fitting() {
+        Sentence.of("Returns 1 if k fits j, else 0; -13; -14.");
+        Sentence.run("fits(4,4)=-13 fits(99,99)=-13 " + CLASSES + "fits(12,11)=1 fits(12,10)=1 fits(11,12)=0 fits(4,5)=1 fits(5,4)=0 fits(17,17)=1 fits(16,17)=1 fits(17,16)=0 fits(18,8)=-14 fits(8,18)=-14 fits(-1,8)=-14 fits(8,-1)=-14 fits(2147483647,0)=-14"
+            + " fits(0,-2147483648)=-14 crash(0)=true fits(4,4)=-13");
+    }
+
     private static void transactions() {
         Sentence.of("Returns the number of the transaction: 1 for the first one, and so on; -13; -12 if 8 are open.");
         Sentence.run(CLASSES + "begin()=1 begin()=2 drop(1)=true begin()=3 keep(2)=1 keep(3)=2 begin()=4 begin()=5 begin()=6 begin()=7 begin()=8 begin()=9 begin()=10 begin()=11 begin()=-12 use(12)=false drop(4)=true begin()=12 begin()=-12 use(12)=true");
@@ -209,6 +218,9 @@ public final class CallSentences {
     }
 
     private static void making() {
+        Sentence.of("Creates a database without classes; it is open, and tray and arguments are empty.");
+        Sentence.run("end(1)=-1 kinds()=0 newest()=-1 reopen()=-13 argument(4,1)=1 end(0)=0 logged()=0 declare()=0");
+        Sentence.of("Creates an object of a class that is not abstract.");
         Sentence.of("Returns the number of the object; -13; -14; -1 if k is another type (Object, too); -12.");
         Sentence.run(CLASSES + "begin()=1 make(12)=3 make(10)=-1 make(11)=-1 make(13)=-1 make(14)=-1 make(15)=-1 make(8)=-1 make(9)=-1 make(0)=-1 make(7)=-1 make(18)=-14 make(-1)=-14 make(2147483647)=-14 make(-2147483648)=-14 make(12)=4 kindOf(4)=12 get(4,0)=0 get(4,1)=0 get(4,2)=0");
     }
@@ -251,7 +263,10 @@ public final class CallSentences {
         }
         Sentence.run(CLASSES + "``text()=3 ``text()=3 ` `text()=4 `" + "x".repeat(1000) + "`text()=5 `" + "x".repeat(1001) + "`text()=-1 `" + "x".repeat(999) + "`text()=6 `" + "x".repeat(999) + "y`text()=7 `" + "x".repeat(1000) + "`text()=5 view(0)=true size(3)=0 size(5)=1000 size(6)=999"
             + " letter(5,999)='x' letter(5,1000)=-2 letter(3,0)=-2 letter(7,999)='y' `" + "x".repeat(1020) + "`text()=-1");
-        // The names of the classes are texts like others.
+        Sentence.of("Returns the number of the object; -13 if the database is closed or no classes are declared; -1 if the tray is no such text; -12.");
+        Sentence.run("`a`text()=-13 " + CLASSES + "`a`text()=3 |ff|text()=-1 crash(0)=true `a`text()=-13 end(1)=1 reopen()=0 text()=3 begin()=1 `b`text()=4");
+        // The names of the classes and the keywords are texts like others.
+        Sentence.run("`class C{}` declare()=1 `abstract`text()=1 `abstract`text()=1 `class`text()=2 `abstract`text()=1 view(0)=true size(1)=8");
         Sentence.run(CLASSES + "`C`text()=3 `class`text()=4 `n`text()=5 `K`text()=6 `C`text()=3 begin()=1 size(4)=5");
         Sentence.of("Returns the number of the constant; -13 if the database is closed or no classes are declared; -14; -1 if k is another type; -2 if there is no such position.");
         Sentence.run(CLASSES + "constant(13,0)=1 constant(13,1)=2 constant(13,2)=-2 constant(13,-1)=-2 constant(13,2147483647)=-2 constant(13,-2147483648)=-2 constant(12,0)=-1 constant(14,0)=-1 constant(10,9)=-1 constant(8,0)=-1 constant(9,0)=-1 constant(0,0)=-1 constant(15,0)=-1"
@@ -265,6 +280,10 @@ public final class CallSentences {
         Sentence.run(OPEN + "size(4)=2 size(5)=2 size(8)=1 size(7)=3 size(3)=-1 size(6)=-1 size(1)=-1 size(0)=-3 size(9)=-14 size(-1)=-14 array(4,0)=9 size(9)=0 array(4,400)=10 size(10)=400 ``text()=11 size(11)=0");
         Sentence.of("Returns the byte; -13; -14; -3; -1; -2.");
         Sentence.run(OPEN + "letter(7,0)='h' letter(7,1)='e' letter(7,2)='y' letter(7,3)=-2 letter(7,-1)=-2 letter(7,2147483647)=-2 letter(7,-2147483648)=-2 letter(4,0)=-1 letter(3,0)=-1 letter(1,0)=-1 letter(6,0)=-1 letter(0,0)=-3 letter(9,0)=-14");
+        Sentence.of("Returns the bits of its value; 0 if the code is not 0.");
+        Sentence.run(OPEN + "put(3,0,4,-1)=0 put(3,1,8,3)=0 put(3,2,7,-1.5d)=0 get(3,0)=-1 get(3,1)=3 get(3,2)=-1.5d get(3,3)=0 get(0,0)=0 get(9,0)=0 get(4,0)=0 drop(1)=true get(3,0)=0");
+        Sentence.of("Returns the bits of the element; 0 if the code is not 0.");
+        Sentence.run(OPEN + "set(4,1,4,-1)=0 set(5,0,8,3)=0 element(4,1)=-1 element(5,0)=3 element(4,2)=0 element(4,-1)=0 element(0,0)=0 element(9,0)=0 element(3,0)=0 drop(1)=true element(4,1)=0");
         Sentence.of("Reads a field. code then tells the code: 0, 13, 14 (also if there is no such field, after code 1), 3, or 1 if t is no object of a class or record.");
         Sentence.run(OPEN + "put(3,0,4,7)=0 get(3,0)=7 code()=0 get(3,1)=0 code()=0 get(3,3)=0 code()=14 get(3,-1)=0 code()=14 get(3,2147483647)=0 code()=14 get(3,-2147483648)=0 code()=14 get(6,2)=0 code()=0 get(6,3)=0 code()=14 get(1,0)=0 code()=1 get(4,0)=0 code()=1 get(7,0)=0 code()=1"
             + " get(4,9)=0 code()=1 get(0,0)=0 code()=3 get(9,0)=0 code()=14 get(-1,0)=0 code()=14 get(3,0)=7 code()=0");
@@ -317,6 +336,10 @@ public final class CallSentences {
         Sentence.of("`t`: an object, or 0 for null");
         Sentence.run(OPEN + "root(0,3)=0 rootAt(0)=3 root(0,0)=0 rootAt(0)=0 root(15,7)=0 rootAt(15)=7 root(3,1)=0 root(16,3)=-2 root(-1,3)=-2 root(0,9)=-14 root(0,-1)=-14 root(16,9)=-14 root(2147483647,0)=-2 root(-2147483648,0)=-2 rootAt(16)=-2 rootAt(-1)=-2 rootAt(2147483647)=-2 rootAt(-2147483648)=-2"
             + " rootAt(3)=1 rootAt(0)=0");
+        Sentence.of("Returns 0; -13; -14; -2.");
+        Sentence.run("root(0,0)=-13 " + KEPT + "root(0,0)=-13 view(1)=true root(99,99)=-13 begin()=2 root(0,99)=-14 root(99,99)=-14 root(99,0)=-2 root(16,0)=-2 root(-1,0)=-2 root(15,0)=0 root(0,3)=0 crash(9999)=true root(0,0)=-13");
+        Sentence.of("Returns the object in it, 0 for null; -13; -2.");
+        Sentence.run("rootAt(0)=-13 " + KEPT + "rootAt(99)=-13 view(1)=true rootAt(0)=3 rootAt(5)=8 rootAt(6)=0 rootAt(15)=0 rootAt(16)=-2 rootAt(-1)=-2 view(0)=true rootAt(0)=0 crash(9999)=true rootAt(99)=-13");
         Sentence.of("Returns whether there is a view in which the object with this number is alive.");
         Sentence.run(CLASSES + "alive(1)=false begin()=1 alive(1)=true alive(2)=true alive(3)=false alive(0)=false alive(-1)=false make(12)=3 alive(3)=true alive(4000)=false alive(4001)=false alive(2147483647)=false alive(-2147483648)=false view(0)=true alive(3)=false use(1)=true alive(3)=true drop(1)=true"
             + " alive(3)=false alive(1)=false");
@@ -331,6 +354,8 @@ public final class CallSentences {
             + " argument(4,5)=1 argument(4,6)=2 argument(8,99)=3 `g`call(3,9)=-14 argument(8,5)=1 argument(4,6)=2 argument(8,3)=3 `g`call(3,9)=-1 argument(4,5)=1 argument(6,0)=2 argument(8,3)=3 `g`call(3,9)=-1 argument(4,5)=1 argument(4,6)=2 argument(4,3)=3 `g`call(3,9)=-1");
         Sentence.run(OPEN + "`f`call(0,9)=-3 `f`call(9,9)=-14 `f`call(-1,9)=-14 `f`call(4,9)=-1 `f`call(7,9)=-1 `f`call(1,9)=-1 `f`call(6,9)=-1 `n`call(3,9)=-1 ``call(3,9)=-1 `F`call(3,9)=-1 `f `call(3,9)=-1 `f()`call(3,9)=-1 `class`call(3,9)=-1 `length`call(7,9)=-1 `never heard of`call(3,9)=-1 `bad`call(3,9)=-8 steps()=4"
             + " answered()=0 `bad`call(3,3)=-10 steps()=3 `f`call(3,1)=0 steps()=1 `f`call(3,0)=-10 steps()=0 `x`call(3,9)=-1 steps()=0");
+        Sentence.of("Tray and arguments are emptied, unless the result is -13.");
+        Sentence.run(OPEN + "drop(1)=true argument(4,1)=1 `f`call(3,9)=-13 end(1)=1 argument(4,1)=2 view(0)=true call(3,9)=-14 end(1)=-1 argument(4,1)=1 `x`call(0,9)=-3 end(1)=-1 argument(4,1)=1");
         Sentence.of("Returns the bits of the result of the latest call of call; 0 if it did not return 0, or there was none.");
         String five = "put(3,0,4,5)=0 `f`call(3,9)=0 answered()=5 ";
         Sentence.run("answered()=0 " + OPEN + five + "`bad`call(3,9)=-8 answered()=0 " + five + "`x`call(3,9)=-1 answered()=0 " + five + "`f`call(9,9)=-14 answered()=0 " + five + "`from c in C give c.n`ask(9)=1 answered()=5 keep(1)=1 answered()=5 `f`call(3,9)=-13 answered()=0 end(1)=1");
@@ -347,6 +372,8 @@ public final class CallSentences {
         Sentence.of("`r`: a row of the latest query that returned a number of rows, from 0");
         Sentence.run(OPEN + "answer(0,0)=0 `from e in E give e,e.number+5`ask(99)=2 answer(0,0)=1 answer(0,1)=5 answer(1,0)=2 answer(1,1)=6 answer(2,0)=0 answer(-1,0)=0 answer(0,2)=0 answer(0,-1)=0 answer(2147483647,2147483647)=0 answer(-2147483648,-2147483648)=0 `from e in E give`ask(9)=-21 answer(1,1)=6"
             + " `from e in E give x`ask(9)=-22 answer(1,1)=6 `from e in E give 1/0`ask(9)=-8 answer(1,1)=6 `from e in E give 9,8,7`ask(1)=-10 answer(1,1)=6 answer(0,2)=0 `from e in E where false give 7`ask(9)=0 answer(0,0)=0 answer(1,1)=0 answerKind(0)=4 answerKind(1)=-1");
+        Sentence.of("Returns the bits; 0 if there is no such row or column.");
+        Sentence.run(OPEN + "`from e in E give -e.number,e==E.L,-1.5,(float)-2,e` ask(99)=-21 `from e in E give -e.number,e==E.L,-1.5,(float)-2` ask(99)=2 answer(1,0)=-1 answer(1,1)=1 answer(0,1)=0 answer(1,2)=-1.5d answer(1,3)=-2.0f answer(1,4)=0 answer(2,3)=0");
         Sentence.of("Returns its type, 8 for that of null; -1 if there is no such column.");
         Sentence.run(OPEN + "answerKind(0)=-1 `from e in E give e,null,true,(Object)e`ask(99)=2 answerKind(0)=13 answerKind(1)=8 answerKind(2)=0 answerKind(3)=8 answerKind(4)=-1 answerKind(-1)=-1 answerKind(2147483647)=-1 answerKind(-2147483648)=-1 `from e in E give 1/0`ask(9)=-8 answerKind(0)=13"
             + " `from c in C give c.n,c.c,c.d,'x'`ask(9)=1 answerKind(0)=4 answerKind(1)=12 answerKind(2)=7 answerKind(3)=3 `from c in C give (byte)1,(short)1,1L,(float)1`ask(9)=1 answerKind(0)=1 answerKind(1)=2 answerKind(2)=5 answerKind(3)=6 `from c in C give \"x\",(int[])null`ask(9)=1 answerKind(0)=9 answerKind(1)=15");
@@ -362,6 +389,9 @@ public final class CallSentences {
             + " range(10,1,0x8000000000000001,0x0000000000000001)=2 range(10,1,0x7fefffffffffffff,0x7ff0000000000000)=1 range(10,1,1.0d,-1.0d)=0");
         Sentence.run(start + "put(2,2,6,-0.0f)=0 put(4,2,6,-1.0f)=0 put(5,2,6,0x7f800000)=0 put(3,2,6,-2.5f)=0 range(10,2,0.0f,0.0f)=1 found(0)=2 range(10,2,-0.0f,-0.0f)=1 range(10,2,0xff800000,0x7f800000)=4 found(0)=3 found(1)=4 found(2)=2 found(3)=5 range(10,2,-2.5f,-1.0f)=2 range(10,2,-1.0f,-2.5f)=0");
         Sentence.run(start + "put(3,3,0,1)=0 put(4,4,3,65535)=0 put(5,6,1,-128)=0 range(10,3,0,1)=4 found(0)=2 found(1)=4 found(2)=5 found(3)=3 range(10,3,1,1)=1 range(10,3,1,0)=0 range(10,4,0,65535)=4 found(3)=4 range(10,4,1,65535)=1 range(10,6,-128,-1)=1 found(0)=5 range(10,6,-127,127)=3 range(11,7,0,0)=2");
+        // A range behind a query that was ordered by texts.
+        Sentence.run(start + "`from a in A order \"t\" give a`ask(99)=4 range(10,0,-9,9)=4 found(0)=2 found(1)=3 found(3)=5 put(5,0,5,9)=0 put(2,0,5,3)=0 put(4,0,5,2)=0 put(3,0,5,1)=0 `from a in A order \"u\" down give a`ask(99)=4"
+            + " range(10,0,-9,9)=4 found(0)=3 found(1)=4 found(2)=2 found(3)=5");
         Sentence.of("found tells them, in ascending order of value, objects with equal values in ascending order of number.");
         StringBuilder many = new StringBuilder("`class A{int n;}` declare()=1 begin()=1 ");
         for (int t = 1; t <= 100; t++) {
@@ -381,6 +411,8 @@ public final class CallSentences {
         Sentence.of("Returns the number of objects; -13; -14, also if there is no such field; -1 if its type is not plain, or does not have the bits low or high.");
         Sentence.run(start + "range(10,0,0,0)=4 range(10,7,0,0)=-14 range(10,-1,0,0)=-14 range(13,0,0,0)=-14 range(14,0,0,0)=-14 range(8,0,0,0)=-14 range(4,0,0,0)=-14 range(16,0,0,0)=-14 range(-1,0,0,0)=-14 range(15,1,0,0)=-1 range(10,5,0,0)=-1 range(10,3,0,2)=-1 range(10,3,-1,1)=-1 range(10,4,0,65536)=-1"
             + " range(10,6,-129,0)=-1 range(10,2,0,-1)=-1 found(3)=5 found(0)=2 range(15,0,0,0)=0 found(0)=0 range(11,7,0,2147483648)=-1 range(11,8,0,0)=-14");
+        Sentence.of("`n`: the position, from 0, of an object found by the latest call of range that returned a number");
+        Sentence.run(start + "range(10,0,0,0)=4 found(0)=2 found(3)=5 found(4)=0 range(12,0,0,0)=1 found(0)=4 found(1)=0 found(3)=0 range(12,9,0,0)=-14 found(0)=4 range(12,0,1,1)=0 found(0)=0");
         Sentence.of("Returns the number of the object; 0 if there is none.");
         Sentence.run("found(0)=0 " + start + "found(0)=0 range(12,0,0,0)=1 found(0)=4 found(1)=0 drop(1)=true found(0)=4 range(12,0,0,0)=-13 found(0)=4 view(0)=true range(10,0,0,0)=0 found(0)=0");
     }
@@ -388,11 +420,15 @@ public final class CallSentences {
     private static void graphs() {
         Sentence.of("`i`: the position of a byte of the graph that was written last, from 0");
         Sentence.run("at(0)=-1 " + OPEN + "at(0)=-1 write(1)=14 at(0)=79 at(8)=0 at(9)=0 at(13) at(14)=-1 at(-1)=-1 at(2147483647)=-1 at(-2147483648)=-1 write(2)=14 at(9)=1 write(0)=-3 write(99)=-14 at(9)=1 drop(1)=true at(9)=1 write(1)=-13 at(9)=1 at(14)=-1");
+        Sentence.of("Returns the byte; -1 if there is none.");
+        Sentence.run(OPEN + "array(1,1)=9 set(9,0,1,-1)=0 write(9)=14 at(9)=255 at(8)=1 at(7)=0 at(13) at(14)=-1 at(-1)=-1");
         Sentence.of("Returns the number of the first object; -13; -20 if the graph has an error (place tells its position); -12.");
         Sentence.run(OPEN + Sentence.graph("4f47 01 02'[I' 01 00 01 00000007") + " read()=9 element(9,0)=7 `x`read()=-20 place()=0 read()=-20 place()=0 view(0)=true `x`read()=-13 place()=-1 end(1)=1");
         Sentence.of("`what`: 0: 1 for SET, 2 for NEW; 1: the object; 2: k, or the type; 3: the old bits, or the length; 4: the new bits, 0 for NEW");
         Sentence.run(OPEN + "row(0,0)=0 make(12)=9 put(9,0,4,-1)=0 put(9,1,8,9)=0 make(12)=10 put(9,1,8,10)=0 patch(3,9)=3 row(0,0)=1 row(0,1)=3 row(0,2)=0 row(0,3)=0 row(0,4)=-1 row(1,0)=2 row(1,1)=-1 row(1,2)=12 row(1,3)=0 row(1,4)=0 row(2,0)=1 row(2,1)=3 row(2,2)=1 row(2,3)=0 row(2,4)=-1 row(3,0)=0 row(-1,0)=0"
             + " row(0,5)=0 row(0,-1)=0 row(2147483647,2147483647)=0 row(-2147483648,-2147483648)=0 patch(3,0)=-3 patch(3,4)=-1 row(2,4)=-1 patch(3,3)=0 row(0,0)=0");
+        Sentence.of("Returns the number; 0 if there is no such row, or what is not 0 to 4.");
+        Sentence.run(OPEN + "make(12)=9 put(9,0,4,-1)=0 patch(3,9)=1 row(0,0)=1 row(0,4)=-1 row(0,5)=0 row(0,-1)=0 row(1,0)=0 row(1,4)=0 row(-1,4)=0");
         Sentence.of("Returns 0; -13; -15 if an old value is not there (section 7); -12.");
         Sentence.run("apply()=-13 " + CLASSES + "apply()=-13 view(0)=true apply()=-13 begin()=1 apply()=0 make(12)=3 make(12)=4 put(4,0,4,1)=0 patch(3,4)=1 apply()=0 get(3,0)=1 apply()=-15 get(3,0)=1 view(0)=true apply()=-13");
         Sentence.of("Returns 1 if their graphs are the same, else 0; -13; -14; -3.");

@@ -34,6 +34,7 @@ public final class EvaluationSentences {
         shortcuts();
         quantifiers();
         mostSteps();
+        allObjects();
         failures();
         deepCalls();
         dispatch();
@@ -85,6 +86,11 @@ public final class EvaluationSentences {
         is("int", "- - 1", 1, 2);
         is("int", "((((1))))", 1, 0);
         is("int", "me().me().n", 5, 3);
+        // Values that wait for a right part are kept apart from those of quantifiers.
+        is("boolean", "(true&&true)==(exists q in is:q==7)", 1, 1 + 2 + 4 + 1);
+        is("boolean", "(b||true)==(all q in is:q==4)", 0, 2 + 2 + 4 + 1);
+        is("int", "(b?1:2)*100+(sum q in is:q)*10+add(p,sum q in is:q*p)", 200 + 110 + 9 + 99, 2 + 1 + 4 + 1 + 1 + 6 + 2 + 1);
+        is("int", "add(add(1,p),(b&&b||!b)?sum q in is:q-p:0)", 10 + 4 + 7 - 18, 2 + 5 + 1 + 6 + 2);
         Sentence.of("Constants, literals, this, and names of parameters and quantifiers count nothing.");
         is("int", "7", 7, 0);
         is("long", "7L", 7, 0);
@@ -179,6 +185,24 @@ public final class EvaluationSentences {
         Sentence.run(x, "`" + ask + "` ask(99998)=1 steps()=99998 `" + ask + "` ask(100001)=-1 steps()=0 place()=-1 end(1)=-1 `" + ask + "` ask(-1)=-1");
     }
 
+    /** As many objects as there may be, gone through again and again. */
+    private static void allObjects() {
+        Sentence.of("then it stands for all objects of this type or a subtype of it that are alive in the view (section 6), in ascending order of their numbers.");
+        StringBuilder text = new StringBuilder("`enum Z{L}class Q{int[] a;}class A{}");
+        StringBuilder counts = new StringBuilder("`from e in Z give (count x in A:true)");
+        for (char c = 'B'; c <= 'J'; c++) {
+            text.append("class ").append(c).append(" extends ").append((char) (c - 1)).append("{}");
+            counts.append("+(count x in ").append(c).append(":true)");
+        }
+        // 1 is a constant, 2 to 3001 are of class J, 3002 is an array.
+        String graph = Sentence.graph("4f47 02 03'LJ;' 02'[I' b917" + "00".repeat(3000) + "01 64" + "00000000".repeat(100));
+        ObjectHouse x = Sentence.run(text + "` declare()=12 begin()=1 " + graph + " read()=2 make(12)=3003 make(11)=3004 put(3004,0,8,3002)=0");
+        for (int i = 0; i < 9; i++) {
+            Sentence.run(x, counts + "` ask(100000)=1 answer(0,0)=30001 steps()=" + (1 + 30001 + 10 + 9));
+        }
+        Sentence.run(x, "`from q in Q give count i in q.a:exists x in J:true` ask(100000)=1 answer(0,0)=100 `from x in J order 1 give x` ask(100000)=-12 steps()=1001 drop(1)=true view(0)=true `from x in A give x` ask(0)=0");
+    }
+
     private static void failures() {
         Sentence.of("Otherwise an evaluation fails, after its step was counted, with code 2: an index that an array or Text does not have;");
         fails("int", "is[2]", 2, 2);
@@ -253,6 +277,8 @@ public final class EvaluationSentences {
         Sentence.run(x, "`from a in A give a.d(29)`ask(1000)=1 `from a in A give a.d(30)`ask(1000)=-9 `from a in A give a.e(29)`ask(1000)=1 `from a in A give a.g(28)`ask(1000)=1 `from a in A give a.g(29)`ask(1000)=-9");
         // Calls that have ended do not count.
         Sentence.run(x, "`from a in A give a.d(29)+a.d(29)+a.d(a.d(29)+29)`ask(1000)=1");
+        // A call after a query that called methods.
+        Sentence.run(x, "`from a in A give a.d(3)`ask(1000)=1 argument(4,2)=1 `d`call(2,1000)=0 answered()=0 steps()=10 `from a in A give a.d(2)`ask(1000)=1 steps()=12");
         // A method call without steps.
         Sentence.run("`class A{int f(){return 1;}}` declare()=1 begin()=1 make(10)=1 `f`call(1,0)=0 answered()=1 steps()=0");
     }
@@ -322,6 +348,8 @@ public final class EvaluationSentences {
                 comparisons(x, "f", "g", a < b, a <= b, a == b);
             }
         }
+        smallRemainders();
+        allPowers();
         ObjectHouse x = values(text, 0, 4, Integer.MIN_VALUE);
         Sentence.run(x, "put(1,2,5,-9223372036854775808)=0 put(1,4,7,-0.0d)=0 put(1,6,6,-0.0f)=0");
         one(x, "-i", false, Integer.MIN_VALUE);
@@ -336,6 +364,11 @@ public final class EvaluationSentences {
         one(x, "k+d", false, Check.bits((double) Long.MIN_VALUE));
         one(x, "k+f", false, Check.bits((float) Long.MIN_VALUE));
         one(x, "1==f", false, 0);
+        one(x, "(double)4503599627370497L%4503599627370496L", false, Check.bits(1.0));
+        one(x, "(double)4503599627370498L%-4503599627370496L", false, Check.bits(2.0));
+        one(x, "(float)8388609%8388608", false, Check.bits(1f));
+        one(x, "(float)-8388609%8388608", false, Check.bits(-1f));
+        one(x, "9007199254740991L%2.0", false, Check.bits(1.0));
         one(x, "0==f", false, 1);
         one(x, "'a'+'b'", false, 195);
         one(x, "-'a'", false, -97);
@@ -346,6 +379,60 @@ public final class EvaluationSentences {
         one(x, "9223372036854775807L+1", false, Long.MIN_VALUE);
         one(x, "16777217==(float)16777216", false, 1);
         one(x, "9007199254740993L==(double)9007199254740992L", false, 1);
+    }
+
+    private static void smallRemainders() {
+        double[] doubles = {4.9e-324, 1e-323, 1.5e-323, 3e-320, 1e-310, 2.225073858507201e-308, 2.2250738585072014e-308, 4.450147717014403e-308, 1e-307, 8.9e-308, 1.0, 1e300};
+        float[] floats = {1.4e-45f, 2.8e-45f, 4.2e-45f, 1e-42f, 1e-39f, 1.1754942e-38f, 1.17549435e-38f, 2.3509887e-38f, 1e-37f, 4.8e-38f, 1f, 1e38f};
+        String text = "class A{double d;double e;float f;float g;}";
+        for (int i = 0; i < doubles.length; i++) {
+            ObjectHouse x = values(text, 0, 7, Check.bits(doubles[i]));
+            Sentence.run(x, "put(1,2,6," + Check.bits(floats[i]) + ")=0");
+            for (int k = 0; k < doubles.length; k++) {
+                Sentence.run(x, "put(1,1,7," + Check.bits(doubles[k]) + ")=0 put(1,3,6," + Check.bits(floats[k]) + ")=0");
+                one(x, "d%e", false, Check.bits(doubles[i] % doubles[k]));
+                one(x, "-d%e", false, Check.bits(-doubles[i] % doubles[k]));
+                one(x, "f%g", false, Check.bits(floats[i] % floats[k]));
+                one(x, "f%-g", false, Check.bits(floats[i] % -floats[k]));
+            }
+        }
+    }
+
+    /** Every power of two that is a double or a float, in arrays that are read as graphs. */
+    private static void allPowers() {
+        for (int first = -1074; first <= 1023; first += 400) {
+            int n = Math.min(400, 1024 - first);
+            StringBuilder graph = new StringBuilder("4f47 01 02'[D' 01 00" + (n < 128 ? String.format("%02x", n) : String.format("%02x%02x", n & 127 | 128, n >> 7)));
+            for (int i = 0; i < n; i++) {
+                graph.append(String.format("%016x", Check.bits(power(first + i))));
+            }
+            ObjectHouse x = Sentence.declared(1, "class A{double[] a;}");
+            Sentence.run(x, "begin()=1 make(10)=1 " + Sentence.graph(graph.toString()) + " read()=2 put(1,0,8,2)=0 `from p in A,d in p.a give d*1.0,d*1.5,d/3.0,(float)d` ask(100000)=" + n);
+            for (int i = 0; i < n; i++) {
+                double d = power(first + i);
+                Check.is("2 to the power of " + (first + i), x.answer(i, 0), Check.bits(d));
+                Check.is("times 1.5", x.answer(i, 1), Check.bits(d * 1.5));
+                Check.is("divided by 3", x.answer(i, 2), Check.bits(d / 3.0));
+                Check.is("as a float", x.answer(i, 3), Check.bits((float) d));
+            }
+        }
+        StringBuilder graph = new StringBuilder("4f47 01 02'[F' 01 00 9502");
+        for (int i = 0; i < 277; i++) {
+            graph.append(String.format("%08x", Check.bits((float) power(i - 149))));
+        }
+        ObjectHouse x = Sentence.declared(1, "class A{float[] a;}");
+        Sentence.run(x, "begin()=1 make(10)=1 " + Sentence.graph(graph.toString()) + " read()=2 put(1,0,8,2)=0 `from p in A,d in p.a give d*1,d*(float)1.5,d/3,(double)d` ask(100000)=277");
+        for (int i = 0; i < 277; i++) {
+            float f = (float) power(i - 149);
+            Check.is("2 to the power of " + (i - 149), x.answer(i, 0), Check.bits(f));
+            Check.is("times 1.5", x.answer(i, 1), Check.bits(f * 1.5f));
+            Check.is("divided by 3", x.answer(i, 2), Check.bits(f / 3f));
+            Check.is("as a double", x.answer(i, 3), Check.bits((double) f));
+        }
+    }
+
+    private static double power(int n) {
+        return n < -1022 ? Double.longBitsToDouble(1L << n + 1074) : Double.longBitsToDouble((long) (n + 1023) << 52);
     }
 
     private static ObjectHouse values(String text, int field, int kind, long bits) {

@@ -2,14 +2,15 @@ import java.util.function.IntPredicate;
 
 /** The sentences of section 3 that name a boundary: which expressions have a type, which one, and where the errors are. */
 public final class ExpressionSentences {
-    /** The classes: 10 I, 11 J, 12 P, 13 Q, 14 X, 15 E, 16 R, 17 S, 18 V. */
-    private static final String HOUSE = "interface I{}interface J extends I{}class P implements I{}class Q extends P{}class X{}enum E{K,L}record R() implements I{}record S(){}"
-        + "class V{boolean z;byte b;short s;char c;int i;long j;float f;double d;Object o;Text t;I k;J l;P p;Q q;X x;E e;R r;S u;int[] ai;P[] ap;Q[] aq;I[] ak;Object[] ao;int[][] aai;"
+    /** The classes: 10 I, 11 J, 12 P, 13 Q, 14 X, 15 E, 16 R, 17 S, 18 H, 19 W, 20 V. */
+    private static final String HOUSE = "interface I{}interface J extends I{}class P implements I{}class Q extends P{}class X{}enum E{K,L}record R() implements I{}record S(){}interface H{}abstract class W{}"
+        + "class V{boolean z;byte b;short s;char c;int i;long j;float f;double d;Object o;Text t;I k;J l;P p;Q q;X x;E e;R r;S u;H h;W w;int[] ai;P[] ap;Q[] aq;I[] ak;Object[] ao;int[][] aai;"
         + "E[] ae;long[] aj;}";
-    private static final String[] FIELDS = "z b s c i j f d o t k l p q x e r u ai ap aq ak ao aai ae aj".split(" ");
-    private static final String[] NAMES = ("boolean byte short char int long float double Object Text I J P Q X E R S int[] P[] Q[] I[] Object[] int[][] E[] long[]").split(" ");
-    private static final int NULL = 26;
-    private static final int[] KINDS = {0, 1, 2, 3, 4, 5, 6, 7, 8, 9, 10, 11, 12, 13, 14, 15, 16, 17, 19, 20, 21, 22, 23, 24, 25, 26, 8};
+    private static final String[] FIELDS = "z b s c i j f d o t k l p q x e r u h w ai ap aq ak ao aai ae aj".split(" ");
+    private static final String[] NAMES = ("boolean byte short char int long float double Object Text I J P Q X E R S H W int[] P[] Q[] I[] Object[] int[][] E[] long[]").split(" ");
+    private static final int ARRAYS = 20;
+    private static final int NULL = 28;
+    private static final int[] KINDS = {0, 1, 2, 3, 4, 5, 6, 7, 8, 9, 10, 11, 12, 13, 14, 15, 16, 17, 18, 19, 21, 22, 23, 24, 25, 26, 27, 28, 8};
 
     /** The house of has, which is taken as often as an object may be called. */
     private static final int MOST_USES = 40;
@@ -52,11 +53,11 @@ public final class ExpressionSentences {
     }
 
     private static boolean isFace(int type) {
-        return type == 10 || type == 11;
+        return type == 10 || type == 11 || type == 18;
     }
 
     private static boolean isClass(int type) {
-        return type >= 12 && type <= 14;
+        return type >= 12 && type <= 14 || type == 19;
     }
 
     /** Written out by hand: which of the reference types are below which. */
@@ -165,12 +166,12 @@ public final class ExpressionSentences {
         Sentence.of("x \".\" length, x an array, has type int. x \".\" number, x of an enumeration type, is the position of the constant (int, from 0)."
             + " x \".\" NAME otherwise is the field of this name of the class or record that is the type of x.");
         for (int k = 0; k <= NULL; k++) {
-            boolean isArray = k >= 18 && k != NULL;
+            boolean isArray = k >= ARRAYS && k != NULL;
             has(isArray ? 4 : -1, of(k) + ".§length");
             has(k == 15 ? 4 : -1, of(k) + ".§number");
             has(-1, of(k) + ".§nothing");
         }
-        has(18, "v");
+        has(20, "v");
         for (int k = 0; k < NULL; k++) {
             has(KINDS[k], of(k));
         }
@@ -203,12 +204,12 @@ public final class ExpressionSentences {
             methods.append(NAMES[k]).append(" m").append(k).append("(").append(NAMES[k]).append(" a){return a;}");
         }
         // No class has more than 20 methods: two classes share them.
-        String half = methods.substring(0, methods.indexOf("int[] m18"));
+        String half = methods.substring(0, methods.indexOf("int[] m" + ARRAYS));
         open(HOUSE + "class M{" + half + "}class N{" + methods.substring(half.length()) + "}");
         for (int from = 0; from <= NULL; from++) {
             for (int to = 0; to < NULL; to++) {
-                String receiver = to < 18 ? "((M)null)" : "((N)null)";
-                int kind = to < 18 ? KINDS[to] : KINDS[to] + 2;
+                String receiver = to < ARRAYS ? "((M)null)" : "((N)null)";
+                int kind = to < ARRAYS ? KINDS[to] : KINDS[to] + 2;
                 has(fits(from, to) ? kind : -1, receiver + ".§m" + to + "(" + of(from) + ")");
             }
         }
@@ -219,6 +220,10 @@ public final class ExpressionSentences {
         Sentence.refused(2, "class A{int f(){return 1;}int g(){return §f(1);}}");
         Sentence.refused(2, "class A{int f(int a,long b){return 1;}int g(){return §f(1L,1L);}}");
         Sentence.declared(1, "class A{int f(int a,long b,double c,Object d,A e,byte f,char g,boolean h){return 1;}int g(byte b){return f('a',b,1L,this,null,b,'b',true);}}");
+        // The arguments are widened, each one as its parameter wants it.
+        ObjectHouse y = Sentence.declared(1, "class A{double mix(int a,double b,float c,long d,double e){return a/2*10000+b/2*1000+c/2*100+d/2*10+e/2;}double m(){return mix('a'-94,3,5L,(byte)7,(float)9);}}");
+        Sentence.run(y, "begin()=1 make(10)=1 `m`call(1,99)=0 answered()=11784.5d");
+        Sentence.answered(y, "from a in A give a.mix((byte)3,3L,5,'a'-90,9)", Check.bits(11784.5));
         Sentence.of("A Text has the methods length ( ), of type int, and at ( int ), of type char.");
         has(4, "v.t.length()");
         has(-1, "v.t.§length(1)");
@@ -233,12 +238,12 @@ public final class ExpressionSentences {
         Sentence.of("for an index the \"[\",");
         for (int k = 0; k <= NULL; k++) {
             has(k >= 1 && k <= 4 ? 4 : -1, "v.ai§[" + of(k) + "]");
-            has(k >= 18 && k < NULL ? element(k) : -1, of(k) + "§[0]");
+            has(k >= ARRAYS && k < NULL ? element(k) : -1, of(k) + "§[0]");
         }
     }
 
     private static int element(int array) {
-        return new int[] {4, 12, 13, 10, 8, 19, 15, 5}[array - 18];
+        return new int[] {4, 12, 13, 10, 8, 21, 15, 5}[array - ARRAYS];
     }
 
     private static void castsOfPlain() {
@@ -375,12 +380,12 @@ public final class ExpressionSentences {
     private static void quantifiers() {
         Sentence.of("The source is an array; or it is a single name that is no name of a quantifier, from part or parameter, but that of a class, record, enumeration or interface of the class text:");
         for (int k = 0; k <= NULL; k++) {
-            boolean isArray = k >= 18 && k < NULL;
+            boolean isArray = k >= ARRAYS && k < NULL;
             has(isArray ? 0 : -1, "exists §y in " + of(k) + ":true");
             has(isArray ? element(k) >= 1 && element(k) <= 7 ? element(k) : -1 : -1, "sum §y in " + of(k) + ":y");
         }
         for (int k = 0; k < NULL; k++) {
-            if (k >= 10 && k <= 17) {
+            if (k >= 10 && k < ARRAYS) {
                 has(4, "count y in " + NAMES[k] + ":true");
                 has(0, "exists y in " + NAMES[k] + ":y==(" + NAMES[k] + ")null");
             }
@@ -418,7 +423,7 @@ public final class ExpressionSentences {
             for (int to = 0; to < NULL; to++) {
                 String body = "class M{V v;" + NAMES[to] + " m(){\u00a7return " + of(from) + ";}}";
                 if (fits(from, to)) {
-                    Sentence.declared(10, HOUSE + body.replace("\u00a7", ""));
+                    Sentence.declared(12, HOUSE + body.replace("\u00a7", ""));
                 } else {
                     Sentence.refused(2, HOUSE + body);
                 }

@@ -9,6 +9,8 @@ public final class GraphSentences {
         checksums();
         positions();
         references();
+        plainArrays();
+        cutDescriptors();
         created();
         sameGraphs();
         patches();
@@ -169,7 +171,10 @@ public final class GraphSentences {
     }
 
     private static void checksums() {
-        Sentence.of("Checksum: the usual 32-bit CRC.");
+        Sentence.of("Checksum: the usual 32-bit CRC. It begins with all bits 1; for each byte, the byte is xored into the lowest 8 bits, and then 8 times the value is shifted right by one, and, if the bit shifted out was 1,"
+            + " xored with 0xEDB88320; at the end all bits are inverted.");
+        // The CRC of 4f 47 00 00, of which this is no graph: the error is behind the checksum.
+        Sentence.run(reader(), "|4f470000" + String.format("%08x", crc(0x4f, 0x47, 0, 0)) + "| read()=-20 place()=2 |4f470000" + String.format("%08x", crc(0x4f, 0x47, 0, 0) ^ 1) + "| read()=-20 place()=4");
         Sentence.of("First it is examined whether there are at least 8 bytes and the checksum is right; otherwise the error is at the position 4 before the end, but at least 0.");
         for (int n = 0; n < 12; n++) {
             Sentence.run(reader(), "|" + "00".repeat(n) + "| read()=-20 place()=" + Math.max(0, n - 4) + " end(1)=-1");
@@ -179,6 +184,10 @@ public final class GraphSentences {
             wrong(n, "4f474f47".substring(0, 2 * n));
         }
         wrong(2, "4f47 00 00");
+        wrong(0, "");
+        wrong(1, "00");
+        wrong(2, "0000");
+        wrong(3, "000000");
         wrong(0, "00 00 00 00");
         String graph = Sentence.graph("4f47 01 03'LC;' 01 00 00 00000001").replace("|", "").replace(" ", "");
         for (int i = 0; i < graph.length() / 2; i++) {
@@ -186,6 +195,19 @@ public final class GraphSentences {
             Sentence.run(reader(), "|" + other + "| read()=-20 place()=14 alive(4)=false |" + graph + "| read()=4 place()=-1");
         }
         Sentence.run(reader(), "|" + graph + "00| read()=-20 place()=15 |" + graph.substring(0, graph.length() - 2) + "| read()=-20 place()=13");
+    }
+
+    private static int crc(int... bytes) {
+        int value = -1;
+        for (int b : bytes) {
+            value ^= b;
+            for (int i = 0; i < 8; i++) {
+                boolean isOne = (value & 1) == 1;
+                value >>>= 1;
+                value = isOne ? value ^ 0xEDB88320 : value;
+            }
+        }
+        return ~value;
     }
 
     private static void positions() {
@@ -316,6 +338,43 @@ public final class GraphSentences {
         return s.toString();
     }
 
+    /** Arrays of each plain type are read as they are written. */
+    private static void plainArrays() {
+        Sentence.of("length above 400, for a text above 1000;");
+        String[] plain = {"Z", "B", "S", "C", "I", "J", "F", "D"};
+        String[] bits = {"01", "80", "8001", "8001", "80000001", "8000000000000001", "80000001", "8000000000000001"};
+        String[] due = {"1", "-128", "-32767", "32769", "-2147483647", "-9223372036854775807", "0x80000001", "-9223372036854775807"};
+        for (int k = 0; k < 8; k++) {
+            String graph = "4f47 01 02'[" + plain[k] + "' 01 00 02 " + bits[k] + "00".repeat(bits[k].length() / 2);
+            ObjectHouse x = Sentence.run("`class C{}` declare()=1 begin()=1 " + Sentence.graph(graph) + " read()=-20 place()=4 `[" + plain[k] + "`kind()=11 " + Sentence.graph(graph) + " read()=1 kindOf(1)=11 size(1)=2 element(1,0)=" + due[k]
+                + " element(1,1)=0");
+            writes(x, 1, graph);
+            String most = "4f47 01 02'[" + plain[k] + "' 01 00 9003" + bits[k].repeat(400);
+            Sentence.run(x, Sentence.graph(most) + " read()=2 size(2)=400 element(2,399)=" + due[k] + " " + Sentence.graph(most.replace("9003", "9103") + bits[k]) + " read()=-20 place()=8");
+        }
+    }
+
+    /** A descriptor is cut off, though the checksum behind it would complete it. */
+    private static void cutDescriptors() {
+        Sentence.of("an item that is cut off by the checksum;");
+        int found = 0;
+        String[] first = {"", "03'LC;'", "03'LE;'", "03'LR;'", "03'LC;' 03'LE;'", "03'LE;' 03'LR;'", "03'LR;' 03'LC;'", "06'LText;'", "03'LD;'", "06'LText;' 03'LD;'"};
+        String[] types = {"LC", "LE", "LR", "LD"};
+        for (String before : first) {
+            for (String type : types) {
+                for (int n = 1; n <= 100; n++) {
+                    String graph = "4f47" + String.format("%02x", n) + before + "03'" + type + "'";
+                    String bytes = Sentence.graph(graph).replace("|", "");
+                    if (bytes.substring(bytes.length() - 8).startsWith("3b") && !before.contains("'" + type + ";'")) {
+                        found++;
+                        wrong(Sentence.digits(graph).length() / 2 - 2, graph);
+                    }
+                }
+            }
+        }
+        Check.is("there are such graphs", found > 3, true);
+    }
+
     private static void created() {
         Sentence.of("If there is an error, nothing is created. Texts become the unique texts, constants the existing ones.");
         ObjectHouse x = reader();
@@ -440,6 +499,13 @@ public final class GraphSentences {
         Sentence.run(start + "put(2,1,4,7)=0 patch(1,2)=1 begin()=2 apply()=-15 use(1)=true apply()=0 drop(1)=true use(2)=true apply()=-15 view(0)=true apply()=-13");
         Sentence.run(start + "root(0,1)=0 root(1,2)=0 keep(1)=1 begin()=2 `t`text()=4 put(2,2,8,4)=0 patch(1,2)=1 drop(2)=true begin()=3 apply()=0 get(1,2)=4 put(1,2,8,0)=0 apply()=0 drop(3)=true sweep(1)=2 begin()=4 apply()=-15"
             + " `t`text()=5 apply()=-15");
+        // A new object with a plain value that is no object, and a reference to a text.
+        String fresh = "`class C{C a;int n;Text t;}` declare()=1 `t`text()=1 begin()=1 make(10)=2 root(0,2)=0 keep(1)=1 begin()=2 make(10)=3 make(10)=4 put(3,0,8,4)=0 put(4,1,4,999)=0 put(3,1,4,-3)=0 ";
+        Sentence.run(fresh + "put(4,2,8,1)=0 patch(2,3)=5 row(0,0)=2 row(4,4)=1 drop(2)=true begin()=3 apply()=0 get(2,1)=-3 get(2,0)=5 get(5,1)=999 get(5,2)=1");
+        Sentence.run(fresh + "put(4,2,8,1)=0 patch(2,3)=5 drop(2)=true sweep(1)=1 begin()=3 apply()=-15 get(2,0)=0 get(2,1)=0 make(10)=5");
+        Sentence.run(fresh + "put(3,2,8,1)=0 patch(2,3)=5 row(3,4)=1 drop(2)=true sweep(1)=1 begin()=3 apply()=-15 get(2,0)=0");
+        Sentence.run(fresh + "put(4,1,4,-1)=0 patch(2,3)=4 drop(2)=true sweep(1)=1 begin()=3 apply()=0 get(2,1)=-3 get(5,1)=-1 get(5,2)=0");
+        Sentence.run("`class C{Object o;}` declare()=1 `t`text()=1 begin()=1 make(10)=2 root(0,2)=0 keep(1)=1 begin()=2 make(10)=3 put(3,0,8,1)=0 patch(2,3)=1 drop(2)=true sweep(1)=1 begin()=3 apply()=-15 get(2,0)=0");
         // Records; the patch of an object with itself.
         Sentence.run(start + "argument(4,1)=1 argument(8,1)=2 record(11)=4 argument(4,2)=1 argument(8,0)=2 record(11)=5 patch(4,5)=2 apply()=0 get(4,0)=2 get(4,1)=0 put(4,0,4,1)=-5 same(4,5)=1 patch(4,4)=0 apply()=0 patch(4,0)=-3 apply()=0");
         Sentence.run(start + "put(2,1,4,7)=0 patch(1,2)=1 patch(1,9)=-14 patch(1,0)=-3 row(0,4)=7 apply()=0 get(1,1)=7 crash(0)=true row(0,0)=0 reopen()=0 begin()=1 apply()=0");

@@ -79,7 +79,8 @@ public final class LogSentences {
         Sentence.run(x, "`from c in C give \"q\"` ask(9)=-13 begin()=7 `from c in C give \"q\"` ask(9)=1 drop(7)=true begin()=8 keep(8)=5");
         end = recordIs(x, end, "01 00000005 0000000c 00000001 0000000b 06'LText;' 00000001 'q' 00000000");
         logEnds(x, end);
-        // After an opening the texts that are in the log are not new.
+        // After an opening the texts that are in the log are not new; those behind a cut are.
+        Sentence.run("`class C{}` declare()=1 begin()=1 keep(1)=1 " + "begin()=2 make(10)=1 keep(2)=2 crash(0)=true reopen()=1 `a`text()=1 begin()=1 keep(1)=2 logged()=74 crash(99)=true reopen()=2 `a`text()=1 view(2)=true kindOf(1)=9");
         Sentence.run(x, "crash(99999)=true reopen()=5 `f`text()=9 `r`text()=12 begin()=1 keep(1)=6");
         end = recordIs(x, end, "01 00000006 0000000d 00000001 0000000c 06'LText;' 00000001 'r' 00000000");
         logEnds(x, end);
@@ -99,6 +100,10 @@ public final class LogSentences {
     }
 
     private static void sums() {
+        Sentence.of("Returns the number of objects that were collected; -13; -14 if there is no such version;");
+        Sentence.run("sweep(0)=-13 `class C{}` declare()=1 sweep(1)=-14 sweep(-1)=-14 sweep(0)=0 begin()=1 make(10)=1 make(10)=2 keep(1)=1 sweep(2)=-14 sweep(1)=2 sweep(1)=0 sweep(0)=-14 crash(9999)=true sweep(1)=-13");
+        Sentence.of("Returns the number of bytes of the log.");
+        Sentence.run("logged()=0 logAt(0)=-1 `class C{}` declare()=1 logged()=0 sweep(0)=0 logged()=21 begin()=1 logged()=21 keep(1)=1 logged()=50 sweep(9)=-14 keep(9)=-14 logged()=50 logAt(49) logAt(50)=-1 crash(0)=true logged()=21 reopen()=0 logged()=21");
         Sentence.of("At the end of a record stands its sum, 8 bytes: s is 0 at first; for each byte b before, s becomes (s xor b), rotated left by 27, times 0x9E3779B97F4A7C15 (with wrap-around).");
         // The sum of a record of 21 bytes, calculated with big numbers.
         java.math.BigInteger s = java.math.BigInteger.ZERO;
@@ -211,6 +216,8 @@ public final class LogSentences {
         // What was removed is no damage of what is written later in its place.
         Sentence.run(start + "poke(70,1)=true reopen()=1 begin()=1 root(9,0)=0 keep(1)=2 crash(999)=true reopen()=2 logged()=" + starts[2]);
         Sentence.run(start + "poke(70,1)=true reopen()=1 crash(999)=true poke(" + starts[1] + ",1)=false reopen()=1");
+        Sentence.of("`mask`: the byte becomes byte xor (mask & 255)");
+        Sentence.run(start + "logAt(4)=1 poke(4,254)=true logAt(4)=255 poke(4,-1)=true logAt(4)=0 poke(4,256)=true logAt(4)=0 poke(4,2147483647)=true logAt(4)=255 poke(4,-2147483648)=true logAt(4)=255 poke(4,254)=true logAt(4)=1 reopen()=3");
         Sentence.of("Returns true; false if the database is not closed, or there is no such byte.");
         int before = Sentence.run(start).logAt(5);
         Sentence.run(start + "poke(-1,1)=false poke(" + starts[4] + ",1)=false poke(2147483647,1)=false poke(-2147483648,1)=false poke(" + (starts[4] - 1) + ",0)=true poke(0,0)=true poke(5,768)=true logAt(5)=" + before
@@ -227,6 +234,15 @@ public final class LogSentences {
             + " keep(3)=3 crash(9999)=true reopen()=3");
         Sentence.run(x, "view(3)=true rootAt(0)=5 rootAt(1)=2 rootAt(2)=1 rootAt(3)=0 get(1,0)=0 get(1,1)=1 get(1,2)=1.0f get(1,3)=-2.5d get(1,4)=4 get(5,0)=3 get(5,1)=1 element(3,0)=7 element(3,1)=-2147483648 size(4)=9 letter(4,8)='t'"
             + " `long text`text()=4 kindOf(5)=11 kindOf(2)=10 alive(6)=false begin()=1 put(5,0,8,0)=-5 put(1,0,8,1)=0 keep(1)=4 sweep(4)=0 crash(9999)=true reopen()=4 view(4)=true get(1,0)=1 alive(2)=true");
+        // Several roots of the last record, texts with gaps before them, new objects in the room of lost ones.
+        x = Sentence.run("`class C{int n;C c;Text t;}` declare()=1 `a`text()=1 `b`text()=2 begin()=1 make(10)=3 begin()=2 make(10)=4 `c`text()=5 put(4,0,4,7)=0 put(4,1,8,4)=0 put(4,2,8,5)=0 array(5,3)=6 set(6,2,5,-1)=0 root(0,4)=0 root(7,6)=0 root(15,5)=0"
+            + " drop(1)=true sweep(0)=2 keep(2)=1 begin()=3 make(10)=7 put(7,0,4,9)=0 put(7,1,8,7)=0 array(5,2)=8 set(8,0,5,-1)=0 set(8,1,5,-1)=0 `d`text()=9 put(4,0,4,8)=0 keep(3)=2 crash(0)=true reopen()=1 view(1)=true");
+        Sentence.run(x, "rootAt(0)=4 rootAt(7)=6 rootAt(15)=5 rootAt(1)=0 rootAt(8)=0 kindOf(5)=9 letter(5,0)='c' `c`text()=5 kindOf(4)=10 kindOf(3)=-14 kindOf(1)=-14 kindOf(2)=-14 get(4,0)=7 get(4,2)=5 element(6,2)=-1 alive(7)=false begin()=1 make(10)=7 get(7,0)=0"
+            + " get(7,1)=0 get(7,2)=0 array(5,2)=8 element(8,0)=0 element(8,1)=0 `d`text()=9 get(4,0)=7 put(4,0,4,1)=0 keep(1)=2 clash()=-1 crash(9999)=true reopen()=2 view(2)=true kindOf(9)=9 letter(9,0)='d' `d`text()=9 get(4,0)=1 `a`text()=10 `b`text()=11");
+        Sentence.run("`class C{}` declare()=1 begin()=1 make(10)=1 begin()=2 make(10)=2 use(1)=true make(10)=3 `t`text()=4 use(2)=true root(0,4)=0 drop(1)=true keep(2)=1 crash(999)=true reopen()=1 view(1)=true alive(1)=false alive(2)=true alive(3)=false kindOf(4)=9"
+            + " rootAt(0)=4 `t`text()=4 `u`text()=5");
+        // A text that is lost is no text of the next life.
+        Sentence.run("`class C{}` declare()=1 `a`text()=1 crash(0)=true reopen()=0 `b`text()=1 `a`text()=2 view(0)=true letter(1,0)='b' begin()=1 keep(1)=1 crash(99)=true reopen()=1 `a`text()=2 `b`text()=1");
         // Object 2 is collected, and stays so; what a cut off collection collected is there again.
         Sentence.run("`class C{C c;}` declare()=1 begin()=1 make(10)=1 make(10)=2 `a`text()=3 root(0,1)=0 keep(1)=1 sweep(1)=2 begin()=2 put(1,0,8,1)=0 keep(2)=2 crash(999)=true reopen()=2 view(2)=true alive(1)=true alive(2)=false alive(3)=false"
             + " `a`text()=4 begin()=1 make(10)=5 keep(1)=3 crash(0)=true reopen()=2 crash(0)=true reopen()=1 view(1)=true alive(2)=false get(1,0)=0 crash(0)=true reopen()=1 view(1)=true alive(2)=true alive(3)=true `a`text()=3");
@@ -265,6 +281,7 @@ public final class LogSentences {
     }
 
     private static void mostOpenings() {
+        Sentence.of("-12 if it was opened 20 times (then it stays closed).");
         Sentence.of("A database is opened again at most 20 times.");
         Sentence.run("`class C{}` declare()=1 begin()=1 keep(1)=1 " + "crash(99)=true reopen()=1 ".repeat(19) + "begin()=1 make(10)=1 keep(1)=2 crash(0)=true poke(0,0)=true reopen()=1 reopen()=-13 begin()=1 crash(0)=true reopen()=-12 logged()=0 reopen()=-12 newest()=-1"
             + " begin()=-13 crash(0)=false kinds()=11 poke(0,0)=false view(0)=false `a`text()=-13 argument(4,1)=1 feed(0,0,0,0,0)=21 end(0)=0");

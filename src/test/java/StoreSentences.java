@@ -93,6 +93,15 @@ public final class StoreSentences {
         // Discarded and collected objects count.
         Sentence.run(full + "drop(1)=true begin()=2 make(10)=4000 make(10)=-12");
         Sentence.run(start + manyObjects(2000) + " read()=3 drop(1)=true `a`text()=2003 sweep(0)=1 `a`text()=2004 begin()=2 " + manyObjects(1996) + " read()=2005 make(10)=-12 drop(2)=true");
+        // What exists already needs no room, and what had none has none later.
+        Sentence.run(full + "make(10)=4000 " + Sentence.graph("4f47 02 03'LE;' 06'LText;' 02 00 00 01 01't'") + " read()=1 " + Sentence.graph("4f47 01 06'LText;' 01 00 01't'") + " read()=2");
+        String three = Sentence.graph("4f47 01 06'LText;' 03 00 01 'a' 00 01 't' 00 01 'b'");
+        Sentence.run(full + three + " read()=-12 " + three + " read()=-12 alive(4000)=false `from e in E give \"a\",\"b\"` ask(9)=-12 `from e in E give \"a\",\"b\"` ask(9)=-12 `c`text()=4000 " + three + " read()=-12 `from e in E give \"a\"` ask(9)=-12"
+            + " `a`text()=-12 alive(4001)=false");
+        Sentence.run(start + manyObjects(3996) + " read()=3 array(4,0)=3999 cloned(3999)=4000 cloned(3999)=-12");
+        // The last object is an object like others.
+        Sentence.run(start + manyObjects(3996) + " read()=3 make(12)=3999 make(10)=4000 put(3999,0,8,4000)=0 get(3999,0)=4000 root(0,4000)=0 root(0,4001)=-14 put(3999,0,8,4001)=-14 argument(8,4000)=1 `x`call(3999,9)=-1 keep(1)=-12 write(3999)"
+            + " same(4000,4000)=1 at(0)=79 kindOf(4000)=10 drop(1)=true crash(0)=true reopen()=0 view(0)=true alive(4000)=false alive(3)=false");
         // A patch that needs one more.
         Sentence.run(start + manyObjects(3994) + " read()=3 make(12)=3997 make(12)=3998 put(3998,0,8,4)=0 patch(3997,3998)=2 row(0,0)=2 record(13)=3999 apply()=0 get(3997,0)=4000 patch(3997,3998)=0");
         Sentence.run(start + manyObjects(3995) + " read()=3 make(12)=3998 make(12)=3999 put(3999,0,8,4)=0 patch(3998,3999)=2 record(13)=4000 apply()=-12 get(3998,0)=0");
@@ -106,7 +115,7 @@ public final class StoreSentences {
     private static void mostElements() {
         Sentence.of("There are at most 4000 objects, and at most 20000 fields and elements of all of them together;");
         String start = "`class C{int a;int b;C c;}record R(int a,int b){}class Z{}` declare()=3 begin()=1 ";
-        Sentence.run(start + arrays(50) + "array(4,1)=-12 array(4,0)=51 make(10)=-12 make(12)=52 argument(4,1)=1 argument(4,1)=2 record(11)=-12 cloned(1)=-12 cloned(51)=53 `a`text()=54 `" + "x".repeat(1000) + "`text()=55 "
+        Sentence.run(start + arrays(50) + "array(4,1)=-12 array(4,0)=51 make(10)=-12 make(12)=52 argument(4,1)=1 argument(4,1)=2 record(11)=-12 cloned(1)=-12 cloned(51)=53 `from z in Z give \"a\"`ask(9)=1 answer(0,0)=54 `" + "x".repeat(1000) + "`text()=55 "
             + Sentence.graph("4f47 01 03 'LZ;' 01 00") + " read()=56 " + Sentence.graph("4f47 01 02 '[I' 01 00 01 00000000") + " read()=-12 " + Sentence.graph("4f47 01 02 '[I' 01 00 00") + " read()=57");
         String most = start + arrays(49) + "array(4,397)=50 ";
         Sentence.run(most + "make(10)=51 make(10)=-12 array(4,1)=-12");
@@ -141,6 +150,8 @@ public final class StoreSentences {
         ObjectHouse x = Sentence.run(s + "set(7,0,4,1)=-12 element(7,0)=0 copy(1,0,7,0,1)=-12 copy(1,0,7,0,0)=0 put(14,0,4,7)=0 put(15,0,4,7)=-12 get(15,0)=0 set(16,0,4,1)=-12 put(14,1,4,8)=0 set(5,7,4,9)=0"
             + " make(10)=17 put(17,0,4,1)=0 array(4,1)=18 set(18,0,4,1)=0 copy(18,0,16,0,1)=-12 copy(16,0,18,0,1)=0 drop(14)=true begin()=15 put(14,0,4,1)=-12 set(16,0,4,1)=-12 root(0,14)=0 keep(15)=2");
         Sentence.run(x, "begin()=16 patch(15,14)=0 apply()=0 drop(16)=true crash(99999)=true reopen()=2 begin()=1 set(16,0,4,1)=-12 element(16,0)=0 array(4,1)=19 set(19,0,4,1)=0 drop(1)=true");
+        // Two rows of a patch change one object only once.
+        Sentence.run(s + "make(10)=17 put(17,0,4,5)=0 put(17,1,4,6)=0 patch(14,17)=2 apply()=0 get(14,1)=6 put(15,0,4,1)=-12");
         // A patch changes one object of version 1, or two.
         Sentence.run(s + "make(10)=17 make(10)=18 put(17,0,4,5)=0 patch(14,17)=1 apply()=0 get(14,0)=5 patch(15,17)=1 apply()=-12 get(15,0)=0 patch(18,17)=1 apply()=0 get(18,0)=5");
         Sentence.run(s + "set(16,0,4,1)=0 make(10)=17 put(17,0,4,5)=0 patch(14,17)=1 apply()=-12 get(14,0)=0 put(14,0,4,1)=-12");
@@ -374,6 +385,9 @@ public final class StoreSentences {
 
     private static void roots() {
         Sentence.of("a root if rootAt reads it;");
+        // What the transaction before has read is forgotten.
+        Sentence.run(START + "rootAt(0)=3 root(1,0)=0 get(3,0)=0 put(4,0,4,1)=0 `from c in C give c`ask(9)=1 keep(2)=2 begin()=3 begin()=4 root(0,4)=0 root(1,4)=0 put(3,0,4,1)=0 put(4,0,4,2)=0 make(12)=12 keep(4)=3 keep(3)=4 begin()=5 keep(5)=5");
+        Sentence.run(START + "rootAt(0)=3 get(3,0)=0 `from c in C give c`ask(9)=1 drop(2)=true begin()=3 begin()=4 root(0,4)=0 put(3,0,4,1)=0 make(12)=12 keep(4)=2 keep(3)=3");
         for (int i : new int[] {0, 1, 15}) {
             meets(0, "rootAt(" + i + ")", "root(" + i + ",4)=0");
             meets(0, "root(" + i + ",4)=0", "root(" + i + ",4)=0");
@@ -460,6 +474,8 @@ public final class StoreSentences {
         Sentence.run(START + "drop(2)=true sweep(1)=5 begin()=3 make(11)=12 alive(11)=false kindOf(11)=-14 alive(10)=false alive(9)=false alive(8)=false alive(5)=false alive(3)=true alive(4)=true alive(6)=true alive(7)=true"
             + " view(0)=false view(1)=true alive(5)=false root(0,3)=-13 sweep(1)=0");
         Sentence.of("-1 if the view is an earlier version, or an open transaction began with an earlier one;");
+        Sentence.run("`class C{}` declare()=1 begin()=1 begin()=2 keep(2)=1 view(1)=true sweep(1)=-1 drop(1)=true sweep(1)=0");
+        Sentence.run("`class C{}` declare()=1 " + "begin() ".repeat(8) + "keep(3)=1 begin()=9 drop(1)=true drop(2)=true drop(4)=true drop(5)=true drop(6)=true drop(7)=true view(1)=true sweep(1)=-1 drop(8)=true sweep(1)=0");
         Sentence.run(START + "keep(2)=2 begin()=3 keep(3)=3 view(2)=true sweep(3)=-1 view(3)=true sweep(3)=5");
         Sentence.run(START + "begin()=3 keep(3)=2 sweep(2)=-1 sweep(1)=5 sweep(2)=-1 keep(2)=3 sweep(2)=0 sweep(3)=0");
         Sentence.run(START + "begin()=3 keep(3)=2 view(2)=true sweep(2)=-1 drop(2)=true sweep(2)=5");
@@ -474,6 +490,19 @@ public final class StoreSentences {
             + " alive(1)=true alive(2)=true begin()=3 root(15,0)=0 keep(3)=3 sweep(2)=0 view(3)=true alive(4)=true sweep(3)=1 alive(4)=false");
         Sentence.run(start + "make(10)=3 make(10)=4 keep(1)=1 begin()=2 root(3,4)=0 sweep(1)=1 alive(4)=true alive(3)=false drop(2)=true sweep(1)=1");
         Sentence.run(start + "`t`text()=3 `u`text()=4 root(1,3)=0 sweep(0)=1 alive(3)=true alive(4)=false drop(1)=true sweep(0)=1");
+        // The first and the last root of a transaction; the object with the number 1.
+        Sentence.run(start + "make(10)=3 make(10)=4 make(10)=5 keep(1)=1 begin()=2 root(0,4)=0 root(15,5)=0 sweep(1)=1 alive(3)=false alive(4)=true alive(5)=true drop(2)=true sweep(1)=2");
+        Sentence.run("`class C{Object o;}` declare()=1 begin()=1 make(10)=1 keep(1)=1 begin()=2 get(1,0)=0 sweep(1)=0 drop(2)=true begin()=3 put(1,0,8,0)=0 sweep(1)=0 drop(3)=true begin()=4 `from c in C give c`ask(9)=1 sweep(1)=0 drop(4)=true sweep(1)=1");
+        // What the first root of an earlier collection referred to is nothing to a later one.
+        Sentence.run(start + "make(10)=3 make(10)=4 make(10)=5 put(3,0,8,4)=0 root(0,3)=0 root(1,5)=0 keep(1)=1 sweep(1)=0 begin()=2 root(0,5)=0 keep(2)=2 sweep(2)=2 view(2)=true alive(4)=false alive(5)=true");
+        // An object of transaction 1, which is not committed, refers to a text.
+        Sentence.run(start + "make(10)=3 `t`text()=4 `u`text()=5 put(3,1,8,4)=0 sweep(0)=1 alive(4)=true alive(5)=false put(3,1,8,0)=0 sweep(0)=1 alive(4)=false");
+        // The last possible version.
+        StringBuilder last = new StringBuilder("`class C{}` declare()=1 ");
+        for (int v = 1; v <= 64; v++) {
+            last.append("begin()=").append(v).append(v < 63 ? "" : " make(10)=" + (v - 62)).append(v == 50 ? " root(2,0)=0" : "").append(" keep(").append(v).append(")=").append(v).append(' ');
+        }
+        Sentence.run(last + "view(64)=true alive(1)=true alive(2)=true sweep(64)=2 alive(1)=false alive(2)=false sweep(64)=0");
         Sentence.of("what an open transaction created (texts are created by no transaction), changed or read, and the objects alive in its view of a class that it read, or of a subtype;");
         Sentence.run(start + "make(10)=3 array(4,1)=4 sweep(0)=0 alive(3)=true alive(4)=true drop(1)=true sweep(0)=0");
         Sentence.run(start + "make(10)=3 make(10)=4 array(10,1)=5 keep(1)=1 begin()=2 put(3,0,8,0)=0 sweep(1)=2 alive(3)=true alive(4)=false drop(2)=true sweep(1)=1");

@@ -23,6 +23,7 @@ public final class TextSentences {
         methods();
         otherTypes();
         missingBodies();
+        bodies();
         Check.end("TextSentences");
     }
 
@@ -196,6 +197,18 @@ public final class TextSentences {
         body(1, "int", "p §= 1");
         body(1, "int", "1§p");
         body(1, "boolean", "q instanceof A§.a");
+        Sentence.of("the symbols { } ( ) [ ] , ; . ? : = + - * / % < > ! ~ & ^ | << >> >>> <= >= == != && ||.");
+        // The search for names of classes ends at what is no token: behind a symbol C is a class, and (C begins a cast.
+        String[] known = "{ } ( ) [ ] , ; . ? : = + - * / % < > ! ~ & ^ | << >> >>> <= >= == != && ||".split(" ");
+        for (String s : known) {
+            Sentence.refused(1, "class B{Object f(){return (C§.x);}} " + s + " class C{}");
+        }
+        for (String s : new String[] {"#", "$", "@", "\\", "\"a", "''", "'", "\u00e9", "\u007f", "2147483648", "x".repeat(31), "1.0000000000000000"}) {
+            Sentence.refused(1, "class B{Object f(){return (C.x);}} §" + s + " class C{}");
+        }
+        for (String s : new String[] {"'\"'", "\"#\"", "1.5", "1L", "name", "while", "'#'"}) {
+            Sentence.refused(1, "class B{Object f(){return (C§.x);}} " + s + " class C{}");
+        }
     }
 
     private static void wholeText() {
@@ -255,7 +268,20 @@ public final class TextSentences {
         value("double", "0.1+0.2+0.3", Check.bits(0.1 + 0.2 + 0.3));
         value("int", "1-2+3", 2);
         value("boolean", "true||true&&false", 1);
-        value("boolean", "true|false^true&false", 1);
+        value("boolean", "true||false&&false", 1);
+        value("boolean", "false&&true|true", 0);
+        value("boolean", "true|true^true", 1);
+        value("boolean", "true^true&false", 1);
+        value("boolean", "false&false==false", 0);
+        value("boolean", "true==1<2", 1);
+        value("boolean", "1<1<<1", 1);
+        value("int", "1<<1+1", 4);
+        value("int", "1+2*3", 7);
+        value("int", "2*3+1", 7);
+        value("int", "8>>1+1", 2);
+        value("int", "6-2*2%3", 5);
+        value("boolean", "false==null instanceof Text", 1);
+        value("int", "~1+1", -1);
         value("int", "1|2^3&4", 3);
         value("boolean", "1+1<<1==4", 1);
         value("boolean", "true&1==1", 1);
@@ -425,6 +451,11 @@ public final class TextSentences {
         }
         Sentence.refused(2, start + "§return x" + "+true".repeat(30) + ";}}");
         Sentence.refused(2, start + "return §x" + "+true".repeat(29) + ";}}");
+        Sentence.refused(2, start + "§return 1" + "+1".repeat(29) + " instanceof A;}}");
+        Sentence.refused(2, start + "return 1" + "+1".repeat(28) + " §instanceof A;}}");
+        Sentence.refused(2, start + "§return a" + ".a".repeat(29) + " instanceof A?1:2;}}");
+        Sentence.refused(2, start + "§return a" + ".a".repeat(28) + " instanceof A?1:2;}}");
+        Sentence.declared(2, start + "return a" + ".a".repeat(27) + " instanceof A?1:2;}}");
         Sentence.refused(2, start + "return 1;}int z(){return §y;}int w(){return x" + "+1".repeat(30) + ";}}");
         Sentence.refused(2, start + "§return 1" + "+1".repeat(30) + ";}int z(){return y;}}");
         ObjectHouse x = Sentence.declared(1, "class A{A a;int[] is;int n;}");
@@ -527,6 +558,21 @@ public final class TextSentences {
         Sentence.refused(2, "interface X extends A{}class Y implements X{}interface Z{}interface §A extends Z,B{}interface B extends Z,A{}");
         Sentence.refused(2, "class §A0 extends A59{}" + chain(59));
         Sentence.declared(60, "class A0{}" + chain(59));
+        // All of the 60 are above the last one: its fields, its methods and their types.
+        ObjectHouse x = Sentence.declared(60, "class A0{int a;int f(){return a;}}" + chain(59));
+        Sentence.run(x, "fields(69)=1 field(69,0)=4 fits(69,10)=1 fits(10,69)=0 begin()=1 make(69)=1 put(1,0,4,7)=0 `f`call(1,1)=0 answered()=7");
+        Sentence.answered(x, "from x in A0 give x.f()", 7);
+        Sentence.refused(2, "class A0{int a;}" + chain(58) + "class B extends A58{int §a;}");
+        Sentence.refused(2, "class A0{int f(){return 1;}}" + chain(58) + "class B extends A58{long §f(){return 1;}}");
+        Sentence.refused(2, "class A0{" + Sentence.many("int a#;", 40) + "}" + chain(58) + "class B extends A58{int §b;}");
+    }
+
+    private static void bodies() {
+        Sentence.of("(g) The bodies of all methods, in order (section 3).");
+        Sentence.refused(2, "class A{int f(){return 1;}int g(){return §x;}int h(){return y;}}interface I{default int f(){return z;}}");
+        Sentence.refused(2, "class A{int f(){return 1;}}interface I{int e();default int f(){return §z;}}record R(){int f(){return y;}}");
+        Sentence.refused(2, "record R(){int f(){return §y;}}class B extends C{int f(){return x;}}class C{int f(){return z;}}");
+        Sentence.refused(2, "class A{int f(){return x;}}record R(){int f(){return 1;}int §f(){return y;}}");
     }
 
     private static String chain(int n) {
@@ -625,7 +671,10 @@ public final class TextSentences {
         Sentence.refused(2, "interface I{int f();int g();}interface J{long f();int g();}abstract class A implements I,J{long §g(){return 1;}}");
         Sentence.refused(2, "interface I{int f();}interface J{long f();}abstract class §A implements I,J{}abstract class B extends A{}");
         Sentence.declared(3, "interface I{int f();}interface J{int f();}abstract class A implements I,J{}");
-        // Fields and constants have nothing to do with it.
+        // What is not above a class has nothing to do with it.
+        Sentence.declared(4, "class P{int f(){return 1;}}class A extends P{}class Q{long f(){return 1;}}class B extends Q{}");
+        Sentence.declared(4, "class P{int f(){return 1;}}class A extends P{int f(){return 2;}}class Q{long f(){return 1;}}class B extends Q{long f(){return 2;}}");
+        // Fields and constants have nothing to do with it, either.
         Sentence.declared(3, "interface I{int f();}abstract class A implements I{long f;}enum E{f}");
     }
 
@@ -647,6 +696,8 @@ public final class TextSentences {
         Sentence.declared(4, "class A implements K{}interface I{default int f(){return 1;}}interface J{default int f(){return 1;}}interface K extends I,J{default int f(){return 1;}}");
         Sentence.declared(3, "class A implements I,J{int f(){return 1;}}interface I{default int f(){return 1;}}interface J{default int f(){return 1;}}");
         Sentence.declared(4, "class A extends B implements I,J{}class B{int f(){return 1;}}interface I{default int f(){return 1;}}interface J{default int f(){return 1;}}");
+        // The very first method of the text replaces one that comes later.
+        Sentence.declared(3, "interface J extends I{default int f(){return 2;}}interface I{default int f(){return 1;}}class A implements J{}");
         Sentence.refused(2, "class B{}class §A implements I{}record C() implements I{}interface I{int f();}");
         Sentence.refused(2, "class §A implements I{int g(){return 1;}}interface I{int f();int g();}");
     }
