@@ -1,12 +1,15 @@
 /** The sentences of sections 4 and 10 that name a boundary: steps, failures, dispatch, queries and their rows. */
 public final class EvaluationSentences {
     /** Types: 10 E, 11 I, 12 B, 13 A; objects: 1 and 2 are K and L, 3 is "hey", 4 is an A, 5 int[]{4, 7}, 6 A[]{4, null}. */
-    private static final String CLASSES = "enum E{K,L}interface I{default int v(){return 1;}}class B{int n;int v(){return 2;}}class A extends B implements I{A a;int[] is;Object o;Text t;boolean b;"
-        + "double d;float f;long l;E e;A[] as;int v(){return 3;}int one(){return 1;}int add(int x,int y){return x+y;}A me(){return this;}int deep(int i){return i<1?0:deep(i-1);}";
+    private static final String CLASSES = "enum E{K,L}interface I{default int v(){return 1;}}class B{int n;int v(){return 2;}}class A extends B implements I{A a;int[] "
+        + "is;Object o;Text t;boolean b;"
+        + "double d;float f;long l;E e;A[] as;int v(){return 3;}int one(){return 1;}int add(int x,int y){return x+y;}A me(){return this;}int deep(int i){return "
+        + "i<1?0:deep(i-1);}";
 
     private static ObjectHouse house(String more) {
         ObjectHouse x = Sentence.declared(4, CLASSES + more + "}");
-        Sentence.run(x, "`hey`text()=3 begin()=1 make(13)=4 array(4,2)=5 set(5,0,4,4)=0 set(5,1,4,7)=0 array(13,2)=6 set(6,0,8,4)=0 put(4,0,4,5)=0 put(4,2,8,5)=0 put(4,3,8,4)=0 put(4,4,8,3)=0"
+        Sentence.run(x, "`hey`text()=3 begin()=1 make(13)=4 array(4,2)=5 set(5,0,4,4)=0 set(5,1,4,7)=0 array(13,2)=6 set(6,0,8,4)=0 put(4,0,4,5)=0 put(4,2,8,5)=0 "
+            + "put(4,3,8,4)=0 put(4,4,8,3)=0"
             + " put(4,6,7,2.5d)=0 put(4,9,8,2)=0 put(4,10,8,6)=0");
         return x;
     }
@@ -25,7 +28,8 @@ public final class EvaluationSentences {
     /** The body fails with this code, after this many steps; with one step less it does not come so far. */
     private static void fails(String type, String body, int code, int steps) {
         ObjectHouse x = house(type + " m(int p){return " + body + ";}");
-        Sentence.run(x, "argument(4,9)=1 `m` call(4,100000)=" + -code + " answered()=0 steps()=" + steps + " argument(4,9)=1 `m` call(4," + steps + ")=" + -code + " steps()=" + steps);
+        Sentence.run(x, "argument(4,9)=1 `m` call(4,100000)=" + -code + " answered()=0 steps()=" + steps + " argument(4,9)=1 `m` call(4," + steps + ")=" + -code
+            + " steps()=" + steps);
         Sentence.run(x, "argument(4,9)=1 `m` call(4," + (steps - 1) + ")=-10 steps()=" + (steps - 1));
     }
 
@@ -56,13 +60,15 @@ public final class EvaluationSentences {
         fails("int", "is[2]+1/0", 2, 2);
         fails("int", "a.is[1/0]", 3, 2);
         fails("int", "(b?1:1/0)+a.n", 8, 3);
-        Sentence.of("Each of the following counts one step when it is executed, after its parts have been evaluated: an operator; an index; an access to a field (also of this, by its name alone), to .length or .number;"
+        Sentence.of("Each of the following counts one step when it is executed, after its parts have been evaluated: an operator; an index; an access to a field (also "
+            + "of this, by its name alone), to .length or .number;"
             + " a call (also of a method of Text); a cast; instanceof.");
         for (String s : new String[] {"1+2", "1-2", "1*2", "1/2", "1%2", "1&2", "1|2", "1^2", "1<<2", "1>>2", "1>>>2", "~1", "-1"}) {
             ObjectHouse x = house("int m(){return " + s + ";}");
             Sentence.run(x, "`m`call(4,0)=-10 steps()=0 `m`call(4,1)=0 steps()=1");
         }
-        for (String s : new String[] {"1<2", "1>2", "1<=2", "1>=2", "1==2", "1!=2", "true==false", "null!=null", "!true", "true&true", "true|true", "true^true", "this instanceof B", "null instanceof B"}) {
+        for (String s : new String[] {"1<2", "1>2", "1<=2", "1>=2", "1==2", "1!=2", "true==false", "null!=null", "!true", "true&true", "true|true", "true^true",
+            "this instanceof B", "null instanceof B"}) {
             ObjectHouse x = house("boolean m(){return " + s + ";}");
             Sentence.run(x, "`m`call(4,0)=-10 steps()=0 `m`call(4,1)=0 steps()=1");
         }
@@ -131,7 +137,8 @@ public final class EvaluationSentences {
     }
 
     private static void quantifiers() {
-        Sentence.of("a quantifier counts after its source has been evaluated, and each object or element that it goes through counts one step more, before the expression is evaluated for it.");
+        Sentence.of("a quantifier counts after its source has been evaluated, and each object or element that it goes through counts one step more, before the "
+            + "expression is evaluated for it.");
         is("int", "sum q in is:q", 11, 2 + 2);
         is("int", "sum q in is:q*q", 65, 2 + 4);
         is("int", "sum q in A:1", 1, 1 + 1);
@@ -150,9 +157,11 @@ public final class EvaluationSentences {
         is("boolean", "all q in is:q<8", 1, 2 + 4);
         is("boolean", "exists q in as:q.n==5", 1, 2 + 3);
         fails("boolean", "all q in as:q.n==5", 3, 2 + 3 + 2);
-        ObjectHouse x = Sentence.declared(2, "class A{int[] is;boolean e(){return exists q in is:true;}boolean f(){return all q in is:false;}int c(){return count q in is:true;}int s(){return sum q in is:1;}"
+        ObjectHouse x = Sentence.declared(2, "class A{int[] is;boolean e(){return exists q in is:true;}boolean f(){return all q in is:false;}int c(){return count q in "
+            + "is:true;}int s(){return sum q in is:1;}"
             + "double d(){return sum q in is:1.5;}boolean z(){return exists q in Z:true;}boolean w(){return all q in Z:false;}}class Z{}");
-        Sentence.run(x, "begin()=1 make(10)=1 array(4,0)=2 put(1,0,8,2)=0 `e`call(1,9)=0 answered()=0 steps()=2 `f`call(1,9)=0 answered()=1 steps()=2 `c`call(1,9)=0 answered()=0 `s`call(1,9)=0 answered()=0"
+        Sentence.run(x, "begin()=1 make(10)=1 array(4,0)=2 put(1,0,8,2)=0 `e`call(1,9)=0 answered()=0 steps()=2 `f`call(1,9)=0 answered()=1 steps()=2 `c`call(1,9)=0 "
+            + "answered()=0 `s`call(1,9)=0 answered()=0"
             + " `d`call(1,9)=0 answered()=0 `z`call(1,1)=0 answered()=0 steps()=1 `w`call(1,1)=0 answered()=1 steps()=1");
         Sentence.of("sum adds up from 0, widened to the type of the result, as the operator + does.");
         is("int", "sum q in is:2147483647", -2, 4);
@@ -176,12 +185,14 @@ public final class EvaluationSentences {
         ObjectHouse x = Sentence.declared(1, "class A{int[] a;int[] b;int m(){return sum p in a:sum q in b:q;}int k(){return -m();}}");
         Sentence.run(x, "begin()=1 make(10)=1 array(4,249)=2 array(4,398)=3 put(1,0,8,2)=0 put(1,1,8,3)=0");
         // Each p takes 401 steps: its own, b, the inner quantifier, 398 elements; in all they are 2 + 249 * 401.
-        Sentence.run(x, "`m`call(1,100000)=0 steps()=99851 `m`call(1,99851)=0 `m`call(1,99850)=-10 steps()=99850 `m`call(1,100001)=-1 steps()=0 `m`call(1,-1)=-1 `m`call(1,0)=-10 steps()=0");
+        Sentence.run(x, "`m`call(1,100000)=0 steps()=99851 `m`call(1,99851)=0 `m`call(1,99850)=-10 steps()=99850 `m`call(1,100001)=-1 steps()=0 `m`call(1,-1)=-1 "
+            + "`m`call(1,0)=-10 steps()=0");
         x = Sentence.declared(1, "class A{int[] a;int[] b;int m(){return sum p in a:sum q in b:q;}}");
         Sentence.run(x, "begin()=1 make(10)=1 array(4,302)=2 array(4,328)=3 put(1,0,8,2)=0 put(1,1,8,3)=0");
         String ask = "from a in A give a.m()" + "+1".repeat(28) + ",1+1+1+1+1";
         // One object, the call, its 99964 steps, 28 and 4 additions: 99998; two more signs make it 100000.
-        Sentence.run(x, "`" + ask + ",- -1` ask(100000)=1 steps()=100000 `" + ask + ",- -1` ask(99999)=-10 steps()=99999 `" + ask + ",- - -1` ask(100000)=-10 steps()=100000 answer(0,2)=1");
+        Sentence.run(x, "`" + ask + ",- -1` ask(100000)=1 steps()=100000 `" + ask + ",- -1` ask(99999)=-10 steps()=99999 `" + ask + ",- - -1` ask(100000)=-10 "
+            + "steps()=100000 answer(0,2)=1");
         Sentence.run(x, "`" + ask + "` ask(99998)=1 steps()=99998 `" + ask + "` ask(100001)=-1 steps()=0 place()=-1 end(1)=-1 `" + ask + "` ask(-1)=-1");
     }
 
@@ -200,7 +211,8 @@ public final class EvaluationSentences {
         for (int i = 0; i < 9; i++) {
             Sentence.run(x, counts + "` ask(100000)=1 answer(0,0)=30001 steps()=" + (1 + 30001 + 10 + 9));
         }
-        Sentence.run(x, "`from q in Q give count i in q.a:exists x in J:true` ask(100000)=1 answer(0,0)=100 `from x in J order 1 give x` ask(100000)=-12 steps()=1001 drop(1)=true view(0)=true `from x in A give x` ask(0)=0");
+        Sentence.run(x, "`from q in Q give count i in q.a:exists x in J:true` ask(100000)=1 answer(0,0)=100 `from x in J order 1 give x` ask(100000)=-12 steps()=1001 "
+            + "drop(1)=true view(0)=true `from x in A give x` ask(0)=0");
     }
 
     private static void failures() {
@@ -217,7 +229,8 @@ public final class EvaluationSentences {
         is("char", "t.at(0)", 'h', 2);
         is("char", "t.at(2)", 'y', 2);
         ObjectHouse x = house("");
-        Sentence.run(x, "`from a in A give \"\".at(0)` ask(2)=-2 steps()=2 `from a in A give \"\".at(0)` ask(1)=-10 `from a in A give \"\".length()` ask(2)=1 answer(0,0)=0 answerKind(0)=4");
+        Sentence.run(x, "`from a in A give \"\".at(0)` ask(2)=-2 steps()=2 `from a in A give \"\".at(0)` ask(1)=-10 `from a in A give \"\".length()` ask(2)=1 "
+            + "answer(0,0)=0 answerKind(0)=4");
         Sentence.of("3: a field, .length, .number, a method or an index of null, or null as source;");
         fails("int", "a.n", 3, 2);
         fails("int", "((A)null).n", 3, 2);
@@ -266,15 +279,18 @@ public final class EvaluationSentences {
     }
 
     private static void deepCalls() {
-        Sentence.of("9: a method call (not that of a method of Text) inside 30 other calls (the call by the method call counts as the first one, but it counts no step).");
-        ObjectHouse x = Sentence.declared(1, "class A{Text t;A a;int d(int i){return i<1?0:d(i-1);}int e(int i){return i<1?t.length():e(i-1);}int f(int i){return i<1?a.d(0):f(i-1);}int g(int i){return i<1?d(0):g(i-1);}"
+        Sentence.of("9: a method call (not that of a method of Text) inside 30 other calls (the call by the method call counts as the first one, but it counts "
+            + "no step).");
+        ObjectHouse x = Sentence.declared(1, "class A{Text t;A a;int d(int i){return i<1?0:d(i-1);}int e(int i){return i<1?t.length():e(i-1);}int f(int i){return "
+            + "i<1?a.d(0):f(i-1);}int g(int i){return i<1?d(0):g(i-1);}"
             + "int h(int i){return i<1?a.t.length():h(i-1);}}");
         Sentence.run(x, "`hey`text()=1 begin()=1 make(10)=2 put(2,0,8,1)=0");
         Sentence.run(x, "argument(4,29)=1 `d`call(2,1000)=0 steps()=" + (30 * 2 + 29 * 2) + " argument(4,30)=1 `d`call(2,1000)=-9 steps()=" + (30 * 2 + 29 * 2 + 2));
         Sentence.run(x, "argument(4,30)=1 `d`call(2,119)=-10 steps()=119 argument(4,30)=1 `d`call(2,120)=-9");
         Sentence.run(x, "argument(4,29)=1 `e`call(2,1000)=0 answered()=3 argument(4,30)=1 `e`call(2,1000)=-9");
         Sentence.run(x, "argument(4,28)=1 `g`call(2,1000)=0 argument(4,29)=1 `g`call(2,1000)=-9 argument(4,29)=1 `f`call(2,1000)=-3 argument(4,29)=1 `h`call(2,1000)=-3");
-        Sentence.run(x, "`from a in A give a.d(29)`ask(1000)=1 `from a in A give a.d(30)`ask(1000)=-9 `from a in A give a.e(29)`ask(1000)=1 `from a in A give a.g(28)`ask(1000)=1 `from a in A give a.g(29)`ask(1000)=-9");
+        Sentence.run(x, "`from a in A give a.d(29)`ask(1000)=1 `from a in A give a.d(30)`ask(1000)=-9 `from a in A give a.e(29)`ask(1000)=1 `from a in A give "
+            + "a.g(28)`ask(1000)=1 `from a in A give a.g(29)`ask(1000)=-9");
         // Calls that have ended do not count.
         Sentence.run(x, "`from a in A give a.d(29)+a.d(29)+a.d(a.d(29)+29)`ask(1000)=1");
         // A call after a query that called methods.
@@ -284,10 +300,13 @@ public final class EvaluationSentences {
     }
 
     private static void dispatch() {
-        Sentence.of("The method that is executed is the one of the class of the object itself: its own one, else that of the nearest parent, else, of all interfaces at any distance, the one with a body such that"
+        Sentence.of("The method that is executed is the one of the class of the object itself: its own one, else that of the nearest parent, else, of all interfaces at "
+            + "any distance, the one with a body such that"
             + " no other one of these interfaces that is a subtype of its interface has a method of this name with a body.");
-        ObjectHouse x = Sentence.declared(11, "interface I{int f();default int g(){return 1;}}interface J extends I{default int g(){return 2;}}interface K extends J{int g();default int f(){return 3;}}"
-            + "class A implements I{int f(){return 4;}}class B extends A implements J{}class C extends B implements K{}class D extends C{int g(){return 5;}}class F extends D implements K{}"
+        ObjectHouse x = Sentence.declared(11, "interface I{int f();default int g(){return 1;}}interface J extends I{default int g(){return 2;}}interface K extends "
+            + "J{int g();default int f(){return 3;}}"
+            + "class A implements I{int f(){return 4;}}class B extends A implements J{}class C extends B implements K{}class D extends C{int g(){return 5;}}class F "
+            + "extends D implements K{}"
             + "record R() implements K,I{}class X implements K{int g(){return 6;}}class Y extends X implements I,J{}");
         String[] due = {"4 1", "4 2", "4 2", "4 5", "4 5", null, "3 6", "3 6"};
         Sentence.run(x, "begin()=1");
@@ -315,7 +334,8 @@ public final class EvaluationSentences {
             for (int b : ints) {
                 x = next(x, text, 0, 4, a);
                 Sentence.run(x, "put(1,1,4," + b + ")=0");
-                results(x, "i", "j", b == 0, a + b, a - b, a * b, b == 0 ? 0 : a / b, b == 0 ? 0 : a % b, a << b, a >> b, a >>> b, a & b, a | b, a ^ b, a < b ? 1 : 0, a >= b ? 1 : 0, a == b ? 1 : 0);
+                results(x, "i", "j", b == 0, a + b, a - b, a * b, b == 0 ? 0 : a / b, b == 0 ? 0 : a % b, a << b, a >> b, a >>> b, a & b, a | b, a ^ b, a < b ? 1 : 0,
+                    a >= b ? 1 : 0, a == b ? 1 : 0);
             }
         }
         for (long a : longs) {
@@ -323,7 +343,8 @@ public final class EvaluationSentences {
             for (long b : longs) {
                 x = next(x, text, 2, 5, a);
                 Sentence.run(x, "put(1,3,5," + b + ")=0");
-                results(x, "k", "l", b == 0, a + b, a - b, a * b, b == 0 ? 0 : a / b, b == 0 ? 0 : a % b, a << b, a >> b, a >>> b, a & b, a | b, a ^ b, a < b ? 1 : 0, a >= b ? 1 : 0, a == b ? 1 : 0);
+                results(x, "k", "l", b == 0, a + b, a - b, a * b, b == 0 ? 0 : a / b, b == 0 ? 0 : a % b, a << b, a >> b, a >>> b, a & b, a | b, a ^ b, a < b ? 1 : 0,
+                    a >= b ? 1 : 0, a == b ? 1 : 0);
             }
         }
         for (double a : doubles) {
@@ -407,7 +428,8 @@ public final class EvaluationSentences {
                 graph.append(String.format("%016x", Check.bits(power(first + i))));
             }
             ObjectHouse x = Sentence.declared(1, "class A{double[] a;}");
-            Sentence.run(x, "begin()=1 make(10)=1 " + Sentence.graph(graph.toString()) + " read()=2 put(1,0,8,2)=0 `from p in A,d in p.a give d*1.0,d*1.5,d/3.0,(float)d` ask(100000)=" + n);
+            Sentence.run(x, "begin()=1 make(10)=1 " + Sentence.graph(graph.toString()) + " read()=2 put(1,0,8,2)=0 `from p in A,d in p.a give "
+                + "d*1.0,d*1.5,d/3.0,(float)d` ask(100000)=" + n);
             for (int i = 0; i < n; i++) {
                 double d = power(first + i);
                 Check.is("2 to the power of " + (first + i), x.answer(i, 0), Check.bits(d));
@@ -421,7 +443,8 @@ public final class EvaluationSentences {
             graph.append(String.format("%08x", Check.bits((float) power(i - 149))));
         }
         ObjectHouse x = Sentence.declared(1, "class A{float[] a;}");
-        Sentence.run(x, "begin()=1 make(10)=1 " + Sentence.graph(graph.toString()) + " read()=2 put(1,0,8,2)=0 `from p in A,d in p.a give d*1,d*(float)1.5,d/3,(double)d` ask(100000)=277");
+        Sentence.run(x, "begin()=1 make(10)=1 " + Sentence.graph(graph.toString()) + " read()=2 put(1,0,8,2)=0 `from p in A,d in p.a give "
+            + "d*1,d*(float)1.5,d/3,(double)d` ask(100000)=277");
         for (int i = 0; i < 277; i++) {
             float f = (float) power(i - 149);
             Check.is("2 to the power of " + (i - 149), x.answer(i, 0), Check.bits(f));
@@ -483,7 +506,8 @@ public final class EvaluationSentences {
         Sentence.refusedQuery(x, 1, "from a in A,b in A,c in A,§1");
         Sentence.refusedQuery(x, 1, "from a in A give 1,2,3,4,§5");
         Sentence.refusedQuery(x, 1, "from a in A give 1,2,3,4,§)");
-        Sentence.run(x, "`from a in A,b in E,c in E give 1,b,c,null` ask(99)=4 answer(3,0)=1 answer(3,1)=2 answer(3,2)=2 answer(3,3)=0 answerKind(3)=8 answerKind(4)=-1 answer(4,0)=0 answer(0,4)=0");
+        Sentence.run(x, "`from a in A,b in E,c in E give 1,b,c,null` ask(99)=4 answer(3,0)=1 answer(3,1)=2 answer(3,2)=2 answer(3,3)=0 answerKind(3)=8 answerKind(4)=-1 "
+            + "answer(4,0)=0 answer(0,4)=0");
         Sentence.run(x, "`from a in A give a` ask(9)=1 answer(0,0)=4 answerKind(0)=13 answerKind(1)=-1 answer(0,1)=0 answer(1,0)=0");
         Sentence.refusedQuery(x, 1, "from a in A where true §where true give 1");
         Sentence.refusedQuery(x, 1, "from a in A order 1 §order 1 give 1");
@@ -507,7 +531,8 @@ public final class EvaluationSentences {
         Sentence.refusedQuery(x, 2, "from i in §a.is,a in A give i");
         Sentence.refusedQuery(x, 2, "from a in §a give a");
         Sentence.run(x, "`from a in A,i in a.a.is give i` ask(99)=-3 steps()=3");
-        Sentence.of("Where the condition of where (a boolean) is true, a row is created: the value of the order expression (a number, a boolean or a Text), and the values of the give expressions.");
+        Sentence.of("Where the condition of where (a boolean) is true, a row is created: the value of the order expression (a number, a boolean or a Text), and the "
+            + "values of the give expressions.");
         Sentence.answered(x, "from e in E where e==E.L give e", 2);
         Sentence.answered(x, "from e in E where false give e");
         Sentence.answered(x, "from e in E where true give e", 1, 2);
@@ -521,7 +546,8 @@ public final class EvaluationSentences {
         Sentence.answered(x, "from i in E,j in E order j.number give i.number*10+j.number", 0, 10, 1, 11);
         Sentence.answered(x, "from i in E,j in E order -i.number-j.number give i.number*10+j.number", 11, 1, 10, 0);
         Sentence.answered(x, "from i in E,j in E order 'x' give i.number*10+j.number", 0, 1, 10, 11);
-        Sentence.of("Numbers are ordered by value, with -0.0 before 0.0; false comes before true; texts are ordered by their bytes, a beginning of another text before it; null comes before everything.");
+        Sentence.of("Numbers are ordered by value, with -0.0 before 0.0; false comes before true; texts are ordered by their bytes, a beginning of another text before "
+            + "it; null comes before everything.");
         numbersInOrder();
         x = house("");
         Sentence.answered(x, "from i in E,j in E order i==j give i.number*10+j.number", 1, 10, 0, 11);
@@ -551,7 +577,8 @@ public final class EvaluationSentences {
         ObjectHouse x = Sentence.declared(1, "class A{double d;long j;float f;}");
         Sentence.run(x, "begin()=1");
         for (int i = 0; i < d.length; i++) {
-            Sentence.run(x, "make(10)=" + (i + 1) + " put(" + (i + 1) + ",0,7," + Check.bits(d[i]) + ")=0 put(" + (i + 1) + ",1,5," + j[i] + ")=0 put(" + (i + 1) + ",2,6," + Check.bits((float) d[i]) + ")=0");
+            Sentence.run(x, "make(10)=" + (i + 1) + " put(" + (i + 1) + ",0,7," + Check.bits(d[i]) + ")=0 put(" + (i + 1) + ",1,5," + j[i] + ")=0 put(" + (i + 1)
+                + ",2,6," + Check.bits((float) d[i]) + ")=0");
         }
         Sentence.answered(x, "from a in A order a.d give a", 4, 10, 6, 8, 2, 12, 1, 11, 7, 5, 9, 3);
         Sentence.answered(x, "from a in A order a.d down give a", 3, 9, 5, 7, 1, 11, 2, 12, 8, 6, 10, 4);
@@ -595,7 +622,8 @@ public final class EvaluationSentences {
         Sentence.run(x, "`from a in A,i in a.a,j in a.c give 2L` ask(100000)=-12 steps()=1023 answer(999,0)=0 answerKind(0)=4");
         Sentence.run(x, "`from a in A,i in a.a,j in a.c give -2` ask(100000)=-12 steps()=2024");
         // The 1001st row is the one behind 9 times 101 and 92 ones; a failure of its values comes first.
-        Sentence.run(x, "set(4,91,4,7)=0 `from a in A,i in a.a,j in a.c where i==0 give 1/(7-j)` ask(100000)=-8 `from a in A,i in a.a,j in a.c where j!=7 give j` ask(100000)=1000");
+        Sentence.run(x, "set(4,91,4,7)=0 `from a in A,i in a.a,j in a.c where i==0 give 1/(7-j)` ask(100000)=-8 `from a in A,i in a.a,j in a.c where j!=7 give j` "
+            + "ask(100000)=1000");
         Sentence.run(x, "`from a in A,i in a.a,j in a.c where j==5 give i` ask(100000)=10 `from a in A,i in a.a,j in a.c order j give -j` ask(100000)=-12 steps()=2024");
     }
 
@@ -639,11 +667,14 @@ public final class EvaluationSentences {
     private static void querySteps() {
         Sentence.of("each object or element that a source of the query goes through counts one step (the from part itself counts none).");
         ObjectHouse x = house("");
-        Sentence.run(x, "`from e in E give e` ask(2)=2 steps()=2 `from e in E give e` ask(1)=-10 steps()=1 `from e in E give e` ask(0)=-10 steps()=0 `from a in A,i in a.is give i` ask(4)=2 steps()=4"
-            + " `from a in A,i in a.is give i` ask(3)=-10 steps()=3 `from i in I where false give 1` ask(1)=0 steps()=1 `from e in E where e.number==1 order -e.number give e.number+1` ask(10)=1 steps()=10"
+        Sentence.run(x, "`from e in E give e` ask(2)=2 steps()=2 `from e in E give e` ask(1)=-10 steps()=1 `from e in E give e` ask(0)=-10 steps()=0 `from a in A,i in "
+            + "a.is give i` ask(4)=2 steps()=4"
+            + " `from a in A,i in a.is give i` ask(3)=-10 steps()=3 `from i in I where false give 1` ask(1)=0 steps()=1 `from e in E where e.number==1 order -e.number "
+            + "give e.number+1` ask(10)=1 steps()=10"
             + " `from e in E where e.number==1 order -e.number give e.number+1` ask(9)=-10");
         ObjectHouse y = Sentence.declared(2, "class A{}class Z{}");
-        Sentence.run(y, "begin()=1 make(10)=1 `from z in Z give 1/0` ask(0)=0 steps()=0 `from a in A,z in Z give 1/0` ask(1)=0 steps()=1 `from z in Z,a in A give 1/0` ask(0)=0 steps()=0");
+        Sentence.run(y, "begin()=1 make(10)=1 `from z in Z give 1/0` ask(0)=0 steps()=0 `from a in A,z in Z give 1/0` ask(1)=0 steps()=1 `from z in Z,a in A give 1/0` "
+            + "ask(0)=0 steps()=0");
         Sentence.run(y, "array(10,2)=2 `from a in (A[])null give 1` ask(9)=-3 steps()=1 `from a in (A[])null give 1` ask(1)=-3 `from a in (A[])null give 1` ask(0)=-10");
     }
 }

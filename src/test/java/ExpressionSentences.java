@@ -3,11 +3,14 @@ import java.util.function.IntPredicate;
 /** The sentences of section 3 that name a boundary: which expressions have a type, which one, and where the errors are. */
 public final class ExpressionSentences {
     /** The classes: 10 I, 11 J, 12 P, 13 Q, 14 X, 15 E, 16 R, 17 S, 18 H, 19 W, 20 V. */
-    private static final String HOUSE = "interface I{}interface J extends I{}class P implements I{}class Q extends P{}class X{}enum E{K,L}record R() implements I{}record S(){}interface H{}abstract class W{}"
-        + "class V{boolean z;byte b;short s;char c;int i;long j;float f;double d;Object o;Text t;I k;J l;P p;Q q;X x;E e;R r;S u;H h;W w;int[] ai;P[] ap;Q[] aq;I[] ak;Object[] ao;int[][] aai;"
+    private static final String HOUSE = "interface I{}interface J extends I{}class P implements I{}class Q extends P{}class X{}enum E{K,L}record R() implements "
+        + "I{}record S(){}interface H{}abstract class W{}"
+        + "class V{boolean z;byte b;short s;char c;int i;long j;float f;double d;Object o;Text t;I k;J l;P p;Q q;X x;E e;R r;S u;H h;W w;int[] ai;P[] ap;Q[] aq;I[] "
+        + "ak;Object[] ao;int[][] aai;"
         + "E[] ae;long[] aj;}";
     private static final String[] FIELDS = "z b s c i j f d o t k l p q x e r u h w ai ap aq ak ao aai ae aj".split(" ");
-    private static final String[] NAMES = ("boolean byte short char int long float double Object Text I J P Q X E R S H W int[] P[] Q[] I[] Object[] int[][] E[] long[]").split(" ");
+    private static final String[] NAMES = ("boolean byte short char int long float double Object Text I J P Q X E R S H W int[] P[] Q[] I[] Object[] int[][] "
+        + "E[] long[]").split(" ");
     private static final int ARRAYS = 20;
     private static final int NULL = 28;
     private static final int[] KINDS = {0, 1, 2, 3, 4, 5, 6, 7, 8, 9, 10, 11, 12, 13, 14, 15, 16, 17, 18, 19, 21, 22, 23, 24, 25, 26, 27, 28, 8};
@@ -111,9 +114,11 @@ public final class ExpressionSentences {
 
     private static void thisObject() {
         Sentence.of("In a method, this is the object on which the method was called; its type is the class, record or interface that declares the method.");
-        ObjectHouse x = Sentence.declared(4, "interface I{int f();default I g(){return this;}default int h(){return this.f();}}class A implements I{int n;int f(){return this.n;}A a(){return this;}}"
+        ObjectHouse x = Sentence.declared(4, "interface I{int f();default I g(){return this;}default int h(){return this.f();}}class A implements I{int n;int "
+            + "f(){return this.n;}A a(){return this;}}"
             + "class B extends A{int f(){return 7;}}record R(int n) implements I{int f(){return this.n;}R r(){return this;}}");
-        Sentence.run(x, "begin()=1 make(11)=1 make(12)=2 put(1,0,4,5)=0 argument(4,6)=1 record(13)=3 `g`call(1,9)=0 answered()=1 `g`call(2,9)=0 answered()=2 `g`call(3,9)=0 answered()=3"
+        Sentence.run(x, "begin()=1 make(11)=1 make(12)=2 put(1,0,4,5)=0 argument(4,6)=1 record(13)=3 `g`call(1,9)=0 answered()=1 `g`call(2,9)=0 answered()=2 "
+            + "`g`call(3,9)=0 answered()=3"
             + " `h`call(1,9)=0 answered()=5 `h`call(2,9)=0 answered()=7 `h`call(3,9)=0 answered()=6 `a`call(2,9)=0 answered()=2 `r`call(3,9)=0 answered()=3");
         Sentence.refused(2, "interface I{default int f(){return this.§n;}}class A implements I{int n;}");
         Sentence.refused(2, "class B extends A{int n;}class A{int f(){return this.§n;}}");
@@ -130,9 +135,12 @@ public final class ExpressionSentences {
     }
 
     private static void names() {
-        Sentence.of("A NAME alone means the innermost name introduced by a quantifier (or by a from part of a query) that is equal to it, else the parameter, else the field of this (declared in its class or a parent).");
-        ObjectHouse x = Sentence.declared(2, "class A extends B{int f(int n){return n;}int g(){return n;}int h(int n,int[] a){return (sum n in a:n+(sum n in a:n))+n;}int k(int[] n){return sum n in n:n;}}class B{int n;}");
-        Sentence.run(x, "begin()=1 make(10)=1 put(1,0,4,5)=0 array(4,2)=2 set(2,0,4,1)=0 set(2,1,4,2)=0 argument(4,7)=1 `f`call(1,9)=0 answered()=7 `g`call(1,9)=0 answered()=5"
+        Sentence.of("A NAME alone means the innermost name introduced by a quantifier (or by a from part of a query) that is equal to it, else the parameter, else the "
+            + "field of this (declared in its class or a parent).");
+        ObjectHouse x = Sentence.declared(2, "class A extends B{int f(int n){return n;}int g(){return n;}int h(int n,int[] a){return (sum n in a:n+(sum n in "
+            + "a:n))+n;}int k(int[] n){return sum n in n:n;}}class B{int n;}");
+        Sentence.run(x, "begin()=1 make(10)=1 put(1,0,4,5)=0 array(4,2)=2 set(2,0,4,1)=0 set(2,1,4,2)=0 argument(4,7)=1 `f`call(1,9)=0 answered()=7 `g`call(1,9)=0 "
+            + "answered()=5"
             + " argument(4,7)=1 argument(8,2)=2 `h`call(1,99)=0 answered()=16 argument(8,2)=1 `k`call(1,9)=0 answered()=3");
         Sentence.answered(x, "from n in A give (exists n in B:n.n==5)?n.n:1", 5);
         Sentence.refusedQuery(x, 2, "from a in A give §n");
@@ -175,15 +183,19 @@ public final class ExpressionSentences {
         for (int k = 0; k < NULL; k++) {
             has(KINDS[k], of(k));
         }
-        ObjectHouse x = Sentence.declared(3, "class A{int length;int number;int at(){return length+this.number;}}class B extends A{}record R(long length,A a){long f(){return length+a.length;}}");
-        Sentence.run(x, "begin()=1 make(11)=1 put(1,0,4,3)=0 put(1,1,4,4)=0 argument(4,9)=1 argument(8,1)=2 record(12)=2 `at`call(1,9)=0 answered()=7 `f`call(2,9)=0 answered()=12");
+        ObjectHouse x = Sentence.declared(3, "class A{int length;int number;int at(){return length+this.number;}}class B extends A{}record R(long length,A a){long "
+            + "f(){return length+a.length;}}");
+        Sentence.run(x, "begin()=1 make(11)=1 put(1,0,4,3)=0 put(1,1,4,4)=0 argument(4,9)=1 argument(8,1)=2 record(12)=2 `at`call(1,9)=0 answered()=7 `f`call(2,9)=0 "
+            + "answered()=12");
         Sentence.refused(2, "class A{int f(A[] a){return a.§n;}int n;}");
         Sentence.refused(2, "interface I{int n();}class A{int f(I i){return i.§n;}}");
     }
 
     private static void calls() {
-        Sentence.of("x \".\" NAME \"(\" ... \")\" means the method of this name of the type of x: its own one, else the one of the nearest parent, else the one of an interface at any distance (all these have the same types).");
-        ObjectHouse x = Sentence.declared(6, "interface I{int f();default int g(){return 1;}}interface J extends I{}abstract class P implements J{abstract int h();}class Q extends P{int f(){return 2;}int h(){return 3;}}"
+        Sentence.of("x \".\" NAME \"(\" ... \")\" means the method of this name of the type of x: its own one, else the one of the nearest parent, else the one of an "
+            + "interface at any distance (all these have the same types).");
+        ObjectHouse x = Sentence.declared(6, "interface I{int f();default int g(){return 1;}}interface J extends I{}abstract class P implements J{abstract int "
+            + "h();}class Q extends P{int f(){return 2;}int h(){return 3;}}"
             + "record R() implements J{int f(){return 4;}}class Z{int z(){return 5;}}");
         Sentence.run(x, "begin()=1 make(13)=1 record(14)=2");
         Sentence.answered(x, "from i in I give i.f()*10+i.g()", 21, 41);
@@ -219,9 +231,11 @@ public final class ExpressionSentences {
         open(HOUSE);
         Sentence.refused(2, "class A{int f(){return 1;}int g(){return §f(1);}}");
         Sentence.refused(2, "class A{int f(int a,long b){return 1;}int g(){return §f(1L,1L);}}");
-        Sentence.declared(1, "class A{int f(int a,long b,double c,Object d,A e,byte f,char g,boolean h){return 1;}int g(byte b){return f('a',b,1L,this,null,b,'b',true);}}");
+        Sentence.declared(1, "class A{int f(int a,long b,double c,Object d,A e,byte f,char g,boolean h){return 1;}int g(byte b){return "
+            + "f('a',b,1L,this,null,b,'b',true);}}");
         // The arguments are widened, each one as its parameter wants it.
-        ObjectHouse y = Sentence.declared(1, "class A{double mix(int a,double b,float c,long d,double e){return a/2*10000+b/2*1000+c/2*100+d/2*10+e/2;}double m(){return mix('a'-94,3,5L,(byte)7,(float)9);}}");
+        ObjectHouse y = Sentence.declared(1, "class A{double mix(int a,double b,float c,long d,double e){return a/2*10000+b/2*1000+c/2*100+d/2*10+e/2;}double "
+            + "m(){return mix('a'-94,3,5L,(byte)7,(float)9);}}");
         Sentence.run(y, "begin()=1 make(10)=1 `m`call(1,99)=0 answered()=11784.5d");
         Sentence.answered(y, "from a in A give a.mix((byte)3,3L,5,'a'-90,9)", Check.bits(11784.5));
         Sentence.of("A Text has the methods length ( ), of type int, and at ( int ), of type char.");
@@ -253,30 +267,38 @@ public final class ExpressionSentences {
                 has(isNumber(from) && isNumber(to) || from == to ? to : -1, "§(" + NAMES[to] + ")" + of(from));
             }
         }
-        long[] longs = {0, 1, -1, 127, 128, 255, 256, -128, -129, 32767, 32768, -32769, 65535, 65536, 2147483647L, 2147483648L, -2147483648L, -2147483649L, 4294967296L, Long.MAX_VALUE, Long.MIN_VALUE,
+        long[] longs = {0, 1, -1, 127, 128, 255, 256, -128, -129, 32767, 32768, -32769, 65535, 65536, 2147483647L, 2147483648L, -2147483648L, -2147483649L, 4294967296L,
+            Long.MAX_VALUE, Long.MIN_VALUE,
             16777217L, 9007199254740993L, 0x7fffffbfffffffffL, 0x7fffff4000000001L};
         double inf = Double.POSITIVE_INFINITY;
-        double[] doubles = {0.0, -0.0, 0.5, -0.5, 0.99, -0.99, 1.5, 127.9, 128.0, -129.0, 32768.0, 65535.9, 65536.0, -1.0, 2147483647.0, 2147483648.0, -2147483649.0, 4294967296.0 * 3, 9.3e18, -9.3e18,
-            9223372036854774784.0, 1e300, -1e300, inf, -inf, 3.4028235677973366e38, 3.4028235677973362e38, 1.401298464324817e-45, 0.7006492321624085e-45, 0.7006492321624086e-45, 1e-310, 4.9e-324,
+        double[] doubles = {0.0, -0.0, 0.5, -0.5, 0.99, -0.99, 1.5, 127.9, 128.0, -129.0, 32768.0, 65535.9, 65536.0, -1.0, 2147483647.0, 2147483648.0, -2147483649.0,
+            4294967296.0 * 3, 9.3e18, -9.3e18,
+            9223372036854774784.0, 1e300, -1e300, inf, -inf, 3.4028235677973366e38, 3.4028235677973362e38, 1.401298464324817e-45, 0.7006492321624085e-45,
+            0.7006492321624086e-45, 1e-310, 4.9e-324,
             1.1754943508222875e-38, 1.1754942807573643e-38, 16777217.0, 0.1, 1.0 / 3};
         for (long j : longs) {
             ObjectHouse x = casting();
             Sentence.run(x, "put(1,0,5," + j + ")=0 put(1,3,4," + (int) j + ")=0");
-            valuesAre(x, "jb", (byte) j, "js", (short) j, "jc", (char) j, "ji", (int) j, "jf", Check.bits((float) j), "jd", Check.bits((double) j), "ic", (char) (int) j, "if_", Check.bits((float) (int) j));
+            valuesAre(x, "jb", (byte) j, "js", (short) j, "jc", (char) j, "ji", (int) j, "jf", Check.bits((float) j), "jd", Check.bits((double) j), "ic", (char) (int) j,
+                "if_", Check.bits((float) (int) j));
         }
         for (double d : doubles) {
             float f = (float) d;
             ObjectHouse x = casting();
             Sentence.run(x, "put(1,1,7," + Check.bits(d) + ")=0 put(1,2,6," + Check.bits(f) + ")=0");
-            valuesAre(x, "db", (byte) d, "ds", (short) d, "dc", (char) d, "di", (int) d, "dj", (long) d, "df", Check.bits((float) d), "fb", (byte) f, "fi", (int) f, "fj", (long) f, "fd", Check.bits((double) f));
+            valuesAre(x, "db", (byte) d, "ds", (short) d, "dc", (char) d, "di", (int) d, "dj", (long) d, "df", Check.bits((float) d), "fb", (byte) f, "fi", (int) f, "fj",
+                (long) f, "fd", Check.bits((double) f));
         }
     }
 
     private static ObjectHouse casting() {
         ObjectHouse x = Sentence.declared(1, "class M{long j;double d;float f;int i;"
-            + "byte jb(){return (byte)j;}short js(){return (short)j;}char jc(){return (char)j;}int ji(){return (int)j;}float jf(){return (float)j;}double jd(){return (double)j;}"
-            + "byte db(){return (byte)d;}short ds(){return (short)d;}char dc(){return (char)d;}int di(){return (int)d;}long dj(){return (long)d;}float df(){return (float)d;}"
-            + "byte fb(){return (byte)f;}int fi(){return (int)f;}long fj(){return (long)f;}double fd(){return (double)f;}char ic(){return (char)i;}float if_(){return (float)i;}}");
+            + "byte jb(){return (byte)j;}short js(){return (short)j;}char jc(){return (char)j;}int ji(){return (int)j;}float jf(){return (float)j;}double jd(){return "
+            + "(double)j;}"
+            + "byte db(){return (byte)d;}short ds(){return (short)d;}char dc(){return (char)d;}int di(){return (int)d;}long dj(){return (long)d;}float df(){return "
+            + "(float)d;}"
+            + "byte fb(){return (byte)f;}int fi(){return (int)f;}long fj(){return (long)f;}double fd(){return (double)f;}char ic(){return (char)i;}float if_(){return "
+            + "(float)i;}}");
         Sentence.run(x, "begin()=1 make(10)=1");
         return x;
     }
@@ -290,7 +312,8 @@ public final class ExpressionSentences {
     }
 
     private static void castsOfReferences() {
-        Sentence.of("A reference type can be cast to another one if one of the two is a subtype of the other one, or one is an interface and the other one is a class or an interface (not a record, an enumeration,"
+        Sentence.of("A reference type can be cast to another one if one of the two is a subtype of the other one, or one is an interface and the other one is a class "
+            + "or an interface (not a record, an enumeration,"
             + " an array type or Text). null can be cast to every reference type.");
         for (int from = 0; from <= NULL; from++) {
             for (int to = 8; to < NULL; to++) {
@@ -348,7 +371,8 @@ public final class ExpressionSentences {
     }
 
     private static void choices() {
-        Sentence.of("c ? x : y : c is boolean; x and y are both numbers (the type is theirs if both have the same one, else the wider one, at least int), or both boolean, or both references"
+        Sentence.of("c ? x : y : c is boolean; x and y are both numbers (the type is theirs if both have the same one, else the wider one, at least int), or both "
+            + "boolean, or both references"
             + " (the type is that of the one that the other one fits; null fits every reference type; of two nulls it is that of null).");
         for (int a = 0; a <= NULL; a++) {
             has(a == 0 ? 4 : -1, of(a) + "§?1:2");
@@ -378,7 +402,8 @@ public final class ExpressionSentences {
     }
 
     private static void quantifiers() {
-        Sentence.of("The source is an array; or it is a single name that is no name of a quantifier, from part or parameter, but that of a class, record, enumeration or interface of the class text:");
+        Sentence.of("The source is an array; or it is a single name that is no name of a quantifier, from part or parameter, but that of a class, record, enumeration "
+            + "or interface of the class text:");
         for (int k = 0; k <= NULL; k++) {
             boolean isArray = k >= ARRAYS && k < NULL;
             has(isArray ? 0 : -1, "exists §y in " + of(k) + ":true");
@@ -407,7 +432,8 @@ public final class ExpressionSentences {
         has(4, "sum w in V:w.i");
         has(-1, "sum w in V:w.§nothing");
         has(-1, "(exists w in V:true)?§w:1");
-        Sentence.of("exists and all: the expression is boolean, and the result is boolean. count: the expression is boolean, the result int. sum: the expression is a number; the result has type int, long or double,"
+        Sentence.of("exists and all: the expression is boolean, and the result is boolean. count: the expression is boolean, the result int. sum: the expression is a "
+            + "number; the result has type int, long or double,"
             + " as the widened type of the expression (float counts as double).");
         for (int k = 0; k <= NULL; k++) {
             has(k == 0 ? 0 : -1, "exists §y in V:" + of(k));
@@ -432,8 +458,10 @@ public final class ExpressionSentences {
     }
 
     private static void positions() {
-        Sentence.of("Its position is that of the first token of the operator, or of the name, that is wrong: for a quantifier its name (also if its source or its expression has a wrong type), for a cast the \"(\","
-            + " for an index the \"[\", for a type that is not known its name, for an argument that does not fit and for a wrong number of arguments the name of the method, for a body that does not fit the word return,"
+        Sentence.of("Its position is that of the first token of the operator, or of the name, that is wrong: for a quantifier its name (also if its source or its "
+            + "expression has a wrong type), for a cast the \"(\","
+            + " for an index the \"[\", for a type that is not known its name, for an argument that does not fit and for a wrong number of arguments the name of the "
+            + "method, for a body that does not fit the word return,"
             + " for a conditional expression the \"?\".");
         has(-1, "v.i  §+  v.z");
         has(-1, "v.i §>>> v.z");
@@ -450,7 +478,8 @@ public final class ExpressionSentences {
         has(-1, "v . §nothing");
         has(-1, "v.o §instanceof int");
         Sentence.refused(2, "class A{int f(){ §return ( true ) ;}}");
-        Sentence.of("Errors of parts (of a cast its expression; an error of the type that it names is of the whole) come before errors of the whole, and those of a left part before those of a right part;"
+        Sentence.of("Errors of parts (of a cast its expression; an error of the type that it names is of the whole) come before errors of the whole, and those of a "
+            + "left part before those of a right part;"
             + " the source of a quantifier comes before its name, and its expression last.");
         has(-1, "(float[])§a");
         has(-1, "(int)§a");

@@ -1,6 +1,7 @@
 /** The sentences of section 2 that name a boundary: tokens, limits of the class text, depth, height, errors 1 and 2. */
 public final class TextSentences {
-    private static final String[] KEYWORDS = ("abstract class extends implements interface default enum record return boolean byte short char int long float double true false null"
+    private static final String[] KEYWORDS = ("abstract class extends implements interface default enum record return boolean byte short char int long float double "
+        + "true false null"
         + " this instanceof in from where order down give exists all count sum").split(" ");
 
     public static void main(String[] args) {
@@ -29,7 +30,8 @@ public final class TextSentences {
 
     /** The text as the body of a method of this type; error 0 is none. */
     private static void body(int error, String type, String marked) {
-        String text = "enum E{K,L}class A{int n;A a;Object o;int[] is;boolean b;long l;double d;int f(int i){return i;}" + type + " m(int p,A q){return " + marked + ";}}";
+        String text = "enum E{K,L}class A{int n;A a;Object o;int[] is;boolean b;long l;double d;int f(int "
+            + "i){return i;}" + type + " m(int p,A q){return " + marked + ";}}";
         if (error == 0) {
             Sentence.declared(2, text);
         } else {
@@ -74,7 +76,8 @@ public final class TextSentences {
     private static void names() {
         Sentence.of("names: a letter or _, followed by letters, digits and _; at most 30 characters;");
         String thirty = "abcdefghijklmnopqrstuvwxyzABCD";
-        Sentence.declared(4, "class " + thirty + "{int EFGHIJKLMNOPQRSTUVWXYZ01234567;int _" + thirty.substring(1) + "(int _9){return _9;}}class _{}enum Z{" + thirty + "}class z{z aZ_09;}");
+        Sentence.declared(4, "class " + thirty + "{int EFGHIJKLMNOPQRSTUVWXYZ01234567;int _" + thirty.substring(1) + "(int _9){return _9;}}class "
+            + "_{}enum Z{" + thirty + "}class z{z aZ_09;}");
         Sentence.refused(1, "class §" + thirty + "E{}");
         Sentence.refused(1, "class A{§" + thirty + "E a;}");
         Sentence.refused(1, "class A{int §" + thirty + "E;}");
@@ -85,7 +88,8 @@ public final class TextSentences {
         Sentence.refused(1, "class A\u00a7\u00e9{}");
         Sentence.refused(1, "class A§$b{}");
         Sentence.refused(1, "class A{int a§-b;}");
-        Sentence.of("the keywords abstract class extends implements interface default enum record return boolean byte short char int long float double true false null this instanceof in from where order"
+        Sentence.of("the keywords abstract class extends implements interface default enum record return boolean byte short char int long float double true false null "
+            + "this instanceof in from where order"
             + " down give exists all count sum;");
         for (String k : KEYWORDS) {
             Sentence.refused(1, "class §" + k + "{}");
@@ -113,7 +117,8 @@ public final class TextSentences {
         body(1, "long", "§18446744073709551616L");
         body(1, "long", "§18446744073709551617L");
         body(1, "long", "1§l");
-        Sentence.of("digits, a point and digits (a double, at most 15 digits; its value is that of all digits as an integer, divided, as doubles, by 10 to the power of the number of digits behind the point);");
+        Sentence.of("digits, a point and digits (a double, at most 15 digits; its value is that of all digits as an integer, divided, as doubles, by 10 to the power of "
+            + "the number of digits behind the point);");
         value("double", "0.1", Check.bits(0.1));
         value("double", "1.0", Check.bits(1.0));
         value("double", "00.00", Check.bits(0.0));
@@ -299,7 +304,8 @@ public final class TextSentences {
     }
 
     private static void casts() {
-        Sentence.of("A \"(\" begins a cast if behind it stands the keyword of a plain type, Object, Text, or a name that somewhere in the class text directly follows class, interface, enum or record"
+        Sentence.of("A \"(\" begins a cast if behind it stands the keyword of a plain type, Object, Text, or a name that somewhere in the class text directly follows "
+            + "class, interface, enum or record"
             + " (the class text is searched for this up to its first byte sequence that is no token).");
         body(1, "int", "(int)§");
         body(1, "int", "(int§+1)");
@@ -335,15 +341,18 @@ public final class TextSentences {
         Sentence.refused(1, Sentence.many("record A#(){}", 60) + "§interface A{}");
         Sentence.refused(1, Sentence.many("class A{}", 60) + "§x");
         Sentence.refused(2, "class A{}class §A{}" + Sentence.many("class A{}", 58));
-        Sentence.of("A class or record has at most 40 fields, including those of its parents, and 20 methods of its own; a method has at most 8 parameters; an enumeration has at most 40 constants.");
+        Sentence.of("A class or record has at most 40 fields, including those of its parents, and 20 methods of its own; a method has at most 8 parameters; an "
+            + "enumeration has at most 40 constants.");
         String fields = Sentence.many("int a#;", 40);
         Sentence.run(Sentence.declared(1, "class A{" + fields + "}"), "fields(10)=40");
         Sentence.refused(2, "class A{" + fields + "int §b;}");
         Sentence.refused(2, "class A{" + fields + "int §b;int c;Z d;}");
         Sentence.refused(2, "class A{" + fields + "§Z b;}");
-        Sentence.run(Sentence.declared(3, "class A extends B{" + Sentence.many("int a#;", 13) + "}class B extends C{" + Sentence.many("int b#;", 13) + "}class C{" + Sentence.many("int c#;", 14) + "}"),
+        Sentence.run(Sentence.declared(3, "class A extends B{" + Sentence.many("int a#;", 13) + "}class B extends C{" + Sentence.many("int b#;", 13) + "}class C{"
+            + Sentence.many("int c#;", 14) + "}"),
             "fields(10)=40 fields(11)=27 fields(12)=14");
-        Sentence.refused(2, "class A extends B{" + Sentence.many("int a#;", 13) + "int §x;}class B extends C{" + Sentence.many("int b#;", 13) + "}class C{" + Sentence.many("int c#;", 14) + "}");
+        Sentence.refused(2, "class A extends B{" + Sentence.many("int a#;", 13) + "int §x;}class B extends C{" + Sentence.many("int b#;", 13) + "}class C{"
+            + Sentence.many("int c#;", 14) + "}");
         Sentence.declared(2, "class A{" + fields + "}class B extends A{int f(){return a39;}}");
         Sentence.refused(2, "class A{" + fields + "}class B extends A{int §b;}");
         Sentence.run(Sentence.declared(1, "record A(int a" + Sentence.many(",int b#", 39) + "){}"), "fields(10)=40");
@@ -378,7 +387,8 @@ public final class TextSentences {
         body(1, "int", open + "(§1)" + close);
         body(1, "int", open + "(§(");
         body(0, "int", less + "(1)" + fewer);
-        Sentence.of("What stands behind a \"(\" or \"[\" in it (but not the \"[\" of a type) up to the corresponding bracket, behind the \"?\" and behind the \":\" of a conditional expression,"
+        Sentence.of("What stands behind a \"(\" or \"[\" in it (but not the \"[\" of a type) up to the corresponding bracket, behind the \"?\" and behind the \":\" of "
+            + "a conditional expression,"
             + " behind a quantifier, behind a unary - ! ~, and behind a cast, is one deeper.");
         body(0, "int", less + "f(1)" + fewer);
         body(1, "int", open + "f(§1)" + close);
@@ -431,13 +441,17 @@ public final class TextSentences {
     }
 
     private static void height() {
-        Sentence.of("The height of an expression without parts is 1, that of any other one 1 plus the greatest height of its parts; parentheses do not count, a call without an object has only its arguments"
+        Sentence.of("The height of an expression without parts is 1, that of any other one 1 plus the greatest height of its parts; parentheses do not count, a call "
+            + "without an object has only its arguments"
             + " as parts, and E.A with an enumeration E has the part E.");
-        Sentence.of("A height above 30 is error 2, found before all other errors of the expression; its position is that of the word return (in a query: of the first token of the expression).");
+        Sentence.of("A height above 30 is error 2, found before all other errors of the expression; its position is that of the word return (in a query: of the first "
+            + "token of the expression).");
         String start = "enum E{K}class A{A a;int n;boolean b;int[] is;Object o;int f(){return 1;}int g(int i){return i;}A h(A a){return a;}int m(int[][] r){";
         // Each one has the height that is told; with as many additions as are missing it has 30, with one more 31.
-        String[] parts = {"1:1", "n:1", "this.n:2", "f():1", "g(1):2", "g(g(1)):3", "this.f():2", "a.g(1+1):3", "h(a).g(1):3", "E.K.number:3", "(1):1", "((n)):1", "is[0]:2", "is[n+1]:3",
-            "is.length:2", "r[0][0]:3", "r[0][1+1+1]:4", "-1:2", "~n:2", "(int)1:2", "(b?1:2):2", "(!b?1:2):3", "(b?1+1:2):3", "(b?1:2+2):3", "(sum x in is:x):2", "(sum x in is:x+1):3",
+        String[] parts = {"1:1", "n:1", "this.n:2", "f():1", "g(1):2", "g(g(1)):3", "this.f():2", "a.g(1+1):3", "h(a).g(1):3", "E.K.number:3", "(1):1", "((n)):1",
+            "is[0]:2", "is[n+1]:3",
+            "is.length:2", "r[0][0]:3", "r[0][1+1+1]:4", "-1:2", "~n:2", "(int)1:2", "(b?1:2):2", "(!b?1:2):3", "(b?1+1:2):3", "(b?1:2+2):3", "(sum x in is:x):2",
+            "(sum x in is:x+1):3",
             "(sum x in r[0]:x):3", "(count x in A:true):2", "(count x in E:x==E.K):4", "(o instanceof A?1:2):3", "1*2:2", "(1+1)*(2+2):3", "\"a\".length():2", "\"a\".at(0):2"};
         for (String part : parts) {
             int colon = part.lastIndexOf(':');
@@ -464,11 +478,13 @@ public final class TextSentences {
         Sentence.refusedQuery(x, 2, "from a in A order §-1" + "+x".repeat(29) + " give 1");
         Sentence.refusedQuery(x, 2, "from a in A give 1,§1" + "+x".repeat(30));
         Sentence.refusedQuery(x, 2, "from a in A,b in §a" + ".a".repeat(29) + ".is give 1");
-        Sentence.answered(x, "from a in A,b in a" + ".a".repeat(28) + ".is where true==" + "!".repeat(28) + "true order 1" + "+1".repeat(29) + " give 1" + "+1".repeat(29));
+        Sentence.answered(x, "from a in A,b in a" + ".a".repeat(28) + ".is where true==" + "!".repeat(28) + "true order 1" + "+1".repeat(29) + " give 1"
+            + "+1".repeat(29));
     }
 
     private static void firstError() {
-        Sentence.of("The position is that of the first byte of the first token with which the tokens up to it are not the beginning of a text; or of the first byte of something that is no token;"
+        Sentence.of("The position is that of the first byte of the first token with which the tokens up to it are not the beginning of a text; or of the first byte of "
+            + "something that is no token;"
             + " or of the first token that is one too many (of a declaration, method, parameter, constant, or of a from or give part of a query) or too deep.");
         Sentence.refused(1, "  §x");
         Sentence.refused(1, "class A{}  class§");
@@ -525,7 +541,8 @@ public final class TextSentences {
     }
 
     private static void parents() {
-        Sentence.of("(b) For each declaration in order: the name behind extends of a class is not that of a class (Object counts as one; an enumeration, record or interface does not); a name behind implements,"
+        Sentence.of("(b) For each declaration in order: the name behind extends of a class is not that of a class (Object counts as one; an enumeration, record or "
+            + "interface does not); a name behind implements,"
             + " or behind extends of an interface, is not that of an interface, or is there twice (position: this name).");
         String others = "interface I{}interface J{}enum E{K}record R(){}abstract class P{}class C{}";
         Sentence.declared(7, "class A extends Object{}" + others);
@@ -546,7 +563,8 @@ public final class TextSentences {
         Sentence.refused(2, "class A implements I,§I{}class B extends X{}" + others);
         // An interface that the parent has already is no repetition.
         Sentence.declared(8, "class A extends B implements I{}class B implements I{}" + others);
-        Sentence.declared(7, "class A implements I,L{}interface I{}interface L extends I{}class B extends C implements I,L{}class C extends D{}class D implements L{}enum X{K}");
+        Sentence.declared(7, "class A implements I,L{}interface I{}interface L extends I{}class B extends C implements I,L{}class C extends D{}class D implements "
+            + "L{}enum X{K}");
     }
 
     private static void circles() {
@@ -592,7 +610,8 @@ public final class TextSentences {
         Sentence.refused(2, "interface A{int f(int a,§Z b);}");
         Sentence.refused(2, "class A{int a;§Z b;Y c;}class B{X d;}");
         Sentence.refused(2, "class A{§A2 a;int a;}");
-        Sentence.of("a field or parameter whose name is that of a class, or Object or Text, or that of a field of the class or its parents (for a field) or of an earlier parameter"
+        Sentence.of("a field or parameter whose name is that of a class, or Object or Text, or that of a field of the class or its parents (for a field) or of an "
+            + "earlier parameter"
             + " (for a parameter; it may have the name of a field), or the 41st field including those of the parents (position: the name);");
         String others = "class B{int b;}interface I{}enum E{K}record R(int r){}";
         for (String name : new String[] {"A", "B", "I", "E", "R", "Object", "Text"}) {
@@ -611,7 +630,8 @@ public final class TextSentences {
     }
 
     private static void methods() {
-        Sentence.of("for a method first its type, then the types and names of its parameters, then the following: a method with this name exists already in the class itself (position: its name);");
+        Sentence.of("for a method first its type, then the types and names of its parameters, then the following: a method with this name exists already in the class "
+            + "itself (position: its name);");
         Sentence.refused(2, "class A{int f(){return 1;}§Z f(Y a,X b){return 1;}}");
         Sentence.refused(2, "class A{int f(){return 1;}int f(§Y a,X b){return 1;}}");
         Sentence.refused(2, "class A{int f(){return 1;}int f(int §A,X b){return 1;}}");
@@ -622,7 +642,8 @@ public final class TextSentences {
         Sentence.refused(2, "interface A{int f();int §f();}");
         Sentence.refused(2, "record A(int a){int f(){return 1;}int §f(){return 1;}}");
         Sentence.declared(2, "class A{int f;int f(){return 1;}}class B extends A{int f(){return 2;}int g(){return f;}}");
-        Sentence.of("abstract in a class that is not abstract, or one of the words abstract and default, or a body or its absence, where it is not allowed (position: the first token of the method).");
+        Sentence.of("abstract in a class that is not abstract, or one of the words abstract and default, or a body or its absence, where it is not allowed (position: "
+            + "the first token of the method).");
         Sentence.refused(2, "class A{int a;§abstract int f();}");
         Sentence.refused(2, "class A{§abstract int f(){return 1;}}");
         Sentence.refused(2, "abstract class A{§abstract int f(){return 1;}}");
@@ -650,10 +671,12 @@ public final class TextSentences {
     }
 
     private static void otherTypes() {
-        Sentence.of("(e) For each declaration in order: a method whose name is also that of a method of a parent, or of an interface, at any distance, with other types (position: its name);");
+        Sentence.of("(e) For each declaration in order: a method whose name is also that of a method of a parent, or of an interface, at any distance, with other types "
+            + "(position: its name);");
         Sentence.refused(2, "class A{int f(){return 1;}}class B extends A{long §f(){return 1;}}");
         Sentence.refused(2, "class B extends A{int §f(int a){return 1;}}class A extends C{}class C extends D{}class D{int f(){return 1;}}");
-        Sentence.refused(2, "interface I{int f(int a);}interface J extends I{}class A implements J{int f(int a){return 1;}int g(){return 1;}}class B extends A{int §f(long a){return 1;}}");
+        Sentence.refused(2, "interface I{int f(int a);}interface J extends I{}class A implements J{int f(int a){return 1;}int g(){return 1;}}class B extends A{int "
+            + "§f(long a){return 1;}}");
         Sentence.refused(2, "interface I{int f(int a,int b);}interface J extends I{int §f(int a);}");
         Sentence.refused(2, "interface I{Object f();}record R() implements I{Text §f(){return null;}}");
         Sentence.refused(2, "interface I{int f(int a,Object b);}record R() implements I{int §f(int a,R b){return 1;}}");
@@ -666,7 +689,8 @@ public final class TextSentences {
         Sentence.refused(2, "interface I{int f();}interface J{long f();}interface §A extends I,J{}");
         Sentence.refused(2, "interface I{int f();}abstract class P{abstract long f();}abstract class §A extends P implements I{}");
         Sentence.refused(2, "interface I{int f();}interface J{long f();}record §A() implements I,J{}");
-        Sentence.refused(2, "interface I{int f();}interface J extends I{}interface K{long f();}abstract class P implements J{}abstract class §A extends P implements K{}");
+        Sentence.refused(2, "interface I{int f();}interface J extends I{}interface K{long f();}abstract class P implements J{}abstract class §A extends P "
+            + "implements K{}");
         Sentence.refused(2, "interface I{int f();}interface J{long f();}abstract class A implements I,J{long §f(){return 1;}}");
         Sentence.refused(2, "interface I{int f();int g();}interface J{long f();int g();}abstract class A implements I,J{long §g(){return 1;}}");
         Sentence.refused(2, "interface I{int f();}interface J{long f();}abstract class §A implements I,J{}abstract class B extends A{}");
@@ -679,7 +703,8 @@ public final class TextSentences {
     }
 
     private static void missingBodies() {
-        Sentence.of("(f) For each class that is not abstract, and for each record, in order: a method for which no body is found, or not exactly one (section 4; position: the name of the class).");
+        Sentence.of("(f) For each class that is not abstract, and for each record, in order: a method for which no body is found, or not exactly one (section 4; "
+            + "position: the name of the class).");
         Sentence.refused(2, "class §A implements I{}interface I{int f();}");
         Sentence.refused(2, "record §A() implements I{}interface I{int f();}");
         Sentence.refused(2, "class §A implements J{}interface I{int f();}interface J extends I{}");
@@ -693,9 +718,11 @@ public final class TextSentences {
         Sentence.declared(3, "class A implements J{}interface I{default int f(){return 1;}}interface J extends I{int f();}");
         Sentence.refused(2, "class §A implements I,J{}interface I{default int f(){return 1;}}interface J{default int f(){return 1;}}");
         Sentence.refused(2, "class §A implements K{}interface I{default int f(){return 1;}}interface J{default int f(){return 1;}}interface K extends I,J{int f();}");
-        Sentence.declared(4, "class A implements K{}interface I{default int f(){return 1;}}interface J{default int f(){return 1;}}interface K extends I,J{default int f(){return 1;}}");
+        Sentence.declared(4, "class A implements K{}interface I{default int f(){return 1;}}interface J{default int f(){return 1;}}interface K extends I,J{default int "
+            + "f(){return 1;}}");
         Sentence.declared(3, "class A implements I,J{int f(){return 1;}}interface I{default int f(){return 1;}}interface J{default int f(){return 1;}}");
-        Sentence.declared(4, "class A extends B implements I,J{}class B{int f(){return 1;}}interface I{default int f(){return 1;}}interface J{default int f(){return 1;}}");
+        Sentence.declared(4, "class A extends B implements I,J{}class B{int f(){return 1;}}interface I{default int f(){return 1;}}interface J{default int "
+            + "f(){return 1;}}");
         // The very first method of the text replaces one that comes later.
         Sentence.declared(3, "interface J extends I{default int f(){return 2;}}interface I{default int f(){return 1;}}class A implements J{}");
         Sentence.refused(2, "class B{}class §A implements I{}record C() implements I{}interface I{int f();}");
