@@ -90,7 +90,6 @@ public final class ObjectHouse {
     private static final int KINDS = FIRST_CLASS + CLASSES;
     private static final int NONE = -1;
     private static final int NULL_TYPE = -2;
-    private static final int NO_THIS = -3;
     private static final int ENUM_NAME = 1000;
     private static final int CLASS_NAME = 2000;
     private static final String DESCRIPTORS = "ZBSCIJFD";
@@ -2893,8 +2892,7 @@ public final class ObjectHouse {
                     case I_OWNER: isRight = variable(word) || nameOf(word, true); break;
                     case I_SOURCE: isRight = variable(word) || nameOf(word, false); break;
                     case I_LITERAL: isRight = literal(token); break;
-                    case I_THIS: isRight = self >= 0 && thisObject(); break;
-                    case I_SELF: isRight = thisObject(); break;
+                    case I_THIS: case I_SELF: isRight = thisObject(); break;
                     case I_FIELD: isRight = selection(word); break;
                     case I_CALL: isRight = callOf(word, count); break;
                     case I_INDEX: isRight = index(); break;
@@ -2956,8 +2954,8 @@ public final class ObjectHouse {
 
         private boolean thisObject() {
             emit2(LOCAL, 0);
-            push(self < 0 ? NO_THIS : self);
-            return true;
+            push(self);
+            return self >= 0;
         }
 
         private boolean variable(int word) {

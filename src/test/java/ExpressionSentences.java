@@ -132,6 +132,18 @@ public final class ExpressionSentences {
         Sentence.refusedQuery(x, 2, "from a in A where §this==a give 1");
         Sentence.refusedQuery(x, 2, "from a in §this give 1");
         Sentence.refusedQuery(x, 2, "from a in §f() give 1");
+        Sentence.of("NAME \"(\" ... \")\" means this \".\" NAME \"(\" ... \")\".");
+        Sentence.run(x, "`g`call(2,9)=0 answered()=2 `h`call(2,9)=0 answered()=7");
+        Sentence.refused(2, "class A{int f(int i){return §g(i);}}class B extends A{int g(int i){return i;}}");
+        Sentence.refused(2, "class A{int f(int i){return i;}int g(){return f(§f);}}");
+        // this is the left part of such a call, so its error comes before those of the arguments.
+        Sentence.refusedQuery(x, 2, "from a in A give §f(y)");
+        Sentence.refusedQuery(x, 2, "from a in A give §f(true+1)");
+        Sentence.refusedQuery(x, 2, "from a in A give §f(f(1))");
+        Sentence.refusedQuery(x, 2, "from a in A give 1+§f(this)");
+        Sentence.refusedQuery(x, 2, "from a in A give §y+f(y)");
+        Sentence.refusedQuery(x, 2, "from a in A give a.f(§y)");
+        Sentence.refusedQuery(x, 2, "from a in A give §f(y)+z");
     }
 
     private static void names() {
@@ -497,7 +509,7 @@ public final class ExpressionSentences {
         has(-1, "v.t.at(§c,d)");
         has(-1, "v.t.at(true,§d)");
         has(-1, "v.§b(1)");
-        has(-1, "nothing(§c)");
+        has(-1, "§nothing(c)");
         has(-1, "§a?b:c");
         has(-1, "1?§b:c");
         has(-1, "1?2:§c");
