@@ -2892,7 +2892,9 @@ public final class ObjectHouse {
                     case I_OWNER: isRight = variable(word) || nameOf(word, true); break;
                     case I_SOURCE: isRight = variable(word) || nameOf(word, false); break;
                     case I_LITERAL: isRight = literal(token); break;
-                    case I_THIS: case I_SELF: isRight = thisObject(); break;
+                    case I_THIS: isRight = self >= 0 && thisObject(); break;
+                    // In a query this is no object: an error of the call, which comes after those of its arguments.
+                    case I_SELF: isRight = thisObject(); break;
                     case I_FIELD: isRight = selection(word); break;
                     case I_CALL: isRight = callOf(word, count); break;
                     case I_INDEX: isRight = index(); break;
@@ -2955,7 +2957,7 @@ public final class ObjectHouse {
         private boolean thisObject() {
             emit2(LOCAL, 0);
             push(self);
-            return self >= 0;
+            return true;
         }
 
         private boolean variable(int word) {

@@ -136,14 +136,32 @@ public final class ExpressionSentences {
         Sentence.run(x, "`g`call(2,9)=0 answered()=2 `h`call(2,9)=0 answered()=7");
         Sentence.refused(2, "class A{int f(int i){return §g(i);}}class B extends A{int g(int i){return i;}}");
         Sentence.refused(2, "class A{int f(int i){return i;}int g(){return f(§f);}}");
-        // this is the left part of such a call, so its error comes before those of the arguments.
-        Sentence.refusedQuery(x, 2, "from a in A give §f(y)");
-        Sentence.refusedQuery(x, 2, "from a in A give §f(true+1)");
-        Sentence.refusedQuery(x, 2, "from a in A give §f(f(1))");
-        Sentence.refusedQuery(x, 2, "from a in A give 1+§f(this)");
+        // The only parts of a call without an object are its arguments: their errors come before that of the call.
+        Sentence.of("a call without an object has only its arguments as parts");
+        ObjectHouse p = Sentence.declared(1, "class P{int n;P q;int t(){return q==null?n:n+q.t();}}");
+        Sentence.run(p, "begin()=1");
+        Sentence.refusedQuery(p, 2, "from p in P give t(§q)");
+        Sentence.refusedQuery(x, 2, "from a in A give f(§y)");
+        Sentence.refusedQuery(x, 2, "from a in A give nothing(§y)");
+        Sentence.refusedQuery(x, 2, "from a in A give f(1,§y,z)");
+        Sentence.refusedQuery(x, 2, "from a in A give f(a,true§+1)");
+        Sentence.refusedQuery(x, 2, "from a in A give f(§f(1))");
+        Sentence.refusedQuery(x, 2, "from a in A give f(f(1,§y))");
+        Sentence.refusedQuery(x, 2, "from a in A give f(§f(1),y)");
+        Sentence.refusedQuery(x, 2, "from a in A give 1+f(§this)");
+        Sentence.refusedQuery(x, 2, "from a in A give f(§this.n,y)");
         Sentence.refusedQuery(x, 2, "from a in A give §y+f(y)");
+        Sentence.refusedQuery(x, 2, "from a in A give §f(a)+y");
+        Sentence.refusedQuery(x, 2, "from a in A give f(§y)+z");
+        Sentence.refusedQuery(x, 2, "from a in A give f(§y).z");
+        Sentence.refusedQuery(x, 2, "from a in A give §f(a).z");
         Sentence.refusedQuery(x, 2, "from a in A give a.f(§y)");
-        Sentence.refusedQuery(x, 2, "from a in A give §f(y)+z");
+        Sentence.refusedQuery(x, 2, "from a in A give a.f(§g(a))");
+        Sentence.refusedQuery(x, 2, "from a in A where f(§y) give z");
+        Sentence.refusedQuery(x, 2, "from a in A order f(§y) give z");
+        Sentence.refusedQuery(x, 2, "from a in f(§y) give z");
+        Sentence.refusedQuery(x, 2, "from a in A give exists b in f(§y):z");
+        Sentence.refusedQuery(x, 2, "from a in A give f(exists a in A:§y)");
     }
 
     private static void names() {
@@ -509,7 +527,8 @@ public final class ExpressionSentences {
         has(-1, "v.t.at(§c,d)");
         has(-1, "v.t.at(true,§d)");
         has(-1, "v.§b(1)");
-        has(-1, "§nothing(c)");
+        has(-1, "nothing(§c)");
+        has(-1, "§nothing(1)");
         has(-1, "§a?b:c");
         has(-1, "1?§b:c");
         has(-1, "1?2:§c");

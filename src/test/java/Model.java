@@ -794,11 +794,11 @@ final class Model {
             case "call":
             case "self": {
                 List<String> ts = new ArrayList<>();
+                for (Ex k : e.kids) ts.add(type(k, s));
                 if (e.op.equals("self")) {
                     if (s.self == null) throw new Err(at);
-                    ts.add(s.self);
+                    ts.add(0, s.self);
                 }
-                for (Ex k : e.kids) ts.add(type(k, s));
                 String t = ts.remove(0);
                 if (t.equals(TXT)) {
                     if (e.name.equals("length") && ts.isEmpty()) {

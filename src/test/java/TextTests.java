@@ -442,7 +442,7 @@ public final class TextTests {
         refusedQuery(2, "from a in A order §(a.is) give b");
         refusedQuery(2, "from a in A give §this");
         refusedQuery(2, "from a in A give §f(1)");
-        refusedQuery(2, "from a in A give §f(b)");
+        refusedQuery(2, "from a in A give f(§b)");
         refusedQuery(2, "from a in A give §n");
         refusedQuery(2, "from a in A give (§long[])null");
         acceptedQuery("from a in A give (int[])null");
